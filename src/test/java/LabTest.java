@@ -9,6 +9,7 @@ public final class LabTest {
         rowsByMeter();
         rowsInOrder();
         rowsWithoutHits();
+        rowsOfLongMoves();
         rowsEndWhereTheCountIsNotMore();
         exceptions();
         leavesRoundsAlone();
@@ -76,6 +77,12 @@ public final class LabTest {
         Check.same("it does behind one", x.punish(1, 0), 120);
         x.patch(0, 3, 60);
         Check.same("there is meter for it", x.punish(1, 0), 120);
+        // Blocked in the frame 31, free behind the frame 90, thrown in the frame 121.
+        DuelFrames late = with(30, 10, 40, 150, DuelFrames.MID, 10);
+        late.move(30, 1, 1, 150, DuelFrames.THROW, 70);
+        late.patch(0, 1, 60);
+        late.patch(0, 2, 0);
+        Check.same("late", late.punish(0, 1), 70);
     }
 
     private static void punishesThatAreGuarded() {
@@ -168,6 +175,19 @@ public final class LabTest {
         DuelFrames thrown = with(4, 2, 8, 40, DuelFrames.THROW, 100);
         thrown.patch(0, 0, 60);
         Check.same("a throw hits once", thrown.most(0, 4, 0), 100);
+    }
+
+    private static void rowsOfLongMoves() {
+        // HIT for 60 frames, that of the hit with them: the next one comes 59 frames later, or 60.
+        DuelFrames x = with(10, 9, 40, 150, DuelFrames.MID, 100);
+        x.patch(0, 0, 60);
+        Check.same("just in time", x.most(0, 2, 0), 190);
+        Check.same("the stun is less by then", x.most(0, 3, 0), 190);
+        DuelFrames y = with(10, 10, 40, 150, DuelFrames.MID, 100);
+        y.patch(0, 0, 60);
+        Check.same("a frame too late", y.most(0, 2, 0), 100);
+        DuelFrames z = with(30, 10, 40, 150, DuelFrames.MID, 100);
+        Check.same("the latest first hit", z.most(0, 2, 0), 100);
     }
 
     private static void rowsEndWhereTheCountIsNotMore() {

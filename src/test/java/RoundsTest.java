@@ -8,6 +8,7 @@ public final class RoundsTest {
         setsWithDraws();
         metersThroughRounds();
         moreLifeWins();
+        lifeOfNothing();
         Check.end("RoundsTest");
     }
 
@@ -36,6 +37,10 @@ public final class RoundsTest {
         Check.figure("20 apart", x, 1, 310, 1000, 0, 0, -1, 0, 0, 0);
         Check.notNow("begin in a round", () -> x.begin(20));
         Check.outOfRange("a wrong one in a round", () -> x.begin(21));
+        DuelFrames z = withMove(200);
+        z.begin(22);
+        Check.figure("22 apart", z, 0, 289, 1000);
+        Check.figure("22 apart", z, 1, 311, 1000);
         DuelFrames y = withMove(200);
         y.begin(300);
         Check.figure("300 apart", y, 0, 150, 1000);
@@ -189,5 +194,47 @@ public final class RoundsTest {
         Check.same("life of the figure 1", y.of(1, 1), 1000 - 5 * 240);
         Check.same("who has more wins", y.of(1, 7), 1);
         Check.same("who has less does not", y.of(0, 7), 0);
+    }
+
+    private static void lifeOfNothing() {
+        DuelFrames x = withMove(200);
+        x.patch(0, 0, 0);
+        x.patch(0, 2, 0);
+        x.begin(20);
+        for (int i = 0; i < 4; i++) {
+            x.play(1, 10, 0);
+            x.play(2, 0, 0);
+        }
+        x.play(1, 0, 10);
+        x.play(2, 0, 0);
+        Check.figure("200 are left", x, 1, 310, 200);
+        Check.yes("it goes on", x.goesOn());
+        x.play(1, 10, 0);
+        Check.same("just 0 is over", x.play(2, 0, 0), 17);
+        Check.figure("0", x, 1, 310, 0);
+        Check.no("over", x.goesOn());
+        Check.same("won", x.of(0, 7), 1);
+        // 1 is left: the round goes on, though the figure 1 can't lose a tenth of less than 10.
+        DuelFrames y = new DuelFrames();
+        y.move(1, 1, 1, 150, DuelFrames.MID, 111);
+        y.move(1, 1, 1, 150, DuelFrames.MID, 9);
+        for (int i = 0; i < 2; i++) {
+            y.patch(i, 0, 0);
+            y.patch(i, 2, 0);
+        }
+        y.begin(20);
+        for (int i = 0; i < 9; i++) {
+            y.play(1, 0, 10);
+            y.play(2, 0, 0);
+        }
+        Check.same("1 is left", y.of(0, 1), 1);
+        Check.yes("it goes on with 1", y.goesOn());
+        y.play(1, 0, 11);
+        y.play(2, 4, 0);
+        Check.same("blocked for nothing", y.of(0, 1), 1);
+        y.play(1, 0, 11);
+        y.play(2, 0, 0);
+        Check.same("below 0", y.of(0, 1), -8);
+        Check.same("the figure 1 has won", y.of(1, 7), 1);
     }
 }
