@@ -551,33 +551,30 @@ public final class DuelFrames {
             }
         }
 
-        /** Both moves and reaches are looked at first: a hit takes the figure 1 out of the move with which it hits. */
+        /** Who reaches is settled ahead of all hits: a hit takes the other one out of its move, and out of reach. */
         private void strike() {
             Move leftMove = moves.at(left.move);
             Move rightMove = moves.at(right.move);
-            int leftReach = reachOf(left, leftMove, right);
-            int rightReach = reachOf(right, rightMove, left);
-            boolean areThrows = leftMove.kind == THROW && rightMove.kind == THROW;
-            if (areThrows && apart() <= leftReach && apart() <= rightReach) {
+            boolean leftReaches = reaches(left, leftMove, right);
+            boolean rightReaches = reaches(right, rightMove, left);
+            if (leftReaches && rightReaches && leftMove.kind == THROW && rightMove.kind == THROW) {
                 part();
                 return;
             }
             left.rememberAheadOfHits();
             right.rememberAheadOfHits();
-            if (apart() <= leftReach) {
+            if (leftReaches) {
                 land(left, leftMove, right);
             }
-            // The places are those of by now: the hit of the figure 0 may have brought the figure 1 out of reach.
-            if (apart() <= rightReach) {
+            if (rightReaches) {
                 land(right, rightMove, left);
             }
         }
 
-        /** How far it reaches in this frame, NONE if it does not, wherever the other one is. */
-        private static int reachOf(Figure by, Move move, Figure other) {
+        private boolean reaches(Figure by, Move move, Figure other) {
             boolean canStrike = by.does == MOVE && by.touchedAgo == NONE && move.isActiveIn(by.frame);
             boolean canBeStruck = move.kind != THROW || other.does == STANDS || other.does == MOVE;
-            return canStrike && canBeStruck ? move.reach : NONE;
+            return canStrike && canBeStruck && apart() <= move.reach;
         }
 
         private void part() {

@@ -18,7 +18,9 @@ public final class FramesTest {
         shortStuns();
         counterHits();
         trades();
-        outOfReachByThePush();
+        bothReachAheadOfThePush();
+        bothReachAtTheWall();
+        bothReachLate();
         throwsHit();
         throwsPart();
         pushesAtWalls();
@@ -338,18 +340,62 @@ public final class FramesTest {
     }
 
     /** The document: by what both did ahead of all hits, but by places as they are by then, the figure 0 first. */
-    private static void outOfReachByThePush() {
+    private static void bothReachAheadOfThePush() {
         DuelFrames x = with(4, 2, 8, 40, DuelFrames.MID, 100);
         x.begin(40);
         x.play(1, 10, 10);
         x.play(4, 0, 0);
-        Check.figure("the figure 0 comes first", x, 0, 280, 1000, 5, M, 0, 5, 0);
-        Check.figure("the figure 1 is out of reach", x, 1, 330, 880, 0, H, NONE, 23, 1);
-        DuelFrames y = with(4, 2, 8, 50, DuelFrames.MID, 100);
+        Check.figure("the figure 1 reaches ahead of the push", x, 0, 270, 880, 5, H, NONE, 23, 1);
+        Check.figure("the figure 0 comes first", x, 1, 330, 880, 5, H, NONE, 23, 1);
+        DuelFrames y = with(4, 2, 8, 41, DuelFrames.MID, 100);
+        y.move(4, 2, 8, 39, DuelFrames.MID, 100);
         y.begin(40);
-        y.play(1, 10, 10);
+        y.play(1, 10, 11);
         y.play(4, 0, 0);
-        Check.figure("just in reach", y, 0, 270, 880, 5, H, NONE, 23, 1);
+        Check.figure("not reached", y, 0, 280, 1000, 5, M, 0, 5, 0);
+        Check.figure("out of reach ahead of the push", y, 1, 330, 880, 0, H, NONE, 23, 1);
+        DuelFrames z = with(4, 2, 8, 150, DuelFrames.THROW, 100);
+        z.move(4, 2, 8, 40, DuelFrames.MID, 100);
+        z.begin(40);
+        z.play(1, 10, 11);
+        z.play(4, 0, 0);
+        Check.figure("a THROW and a MID both hit", z, 0, 270, 880, 5, H, NONE, 23, 1);
+        Check.figure("though the THROW comes first", z, 1, 330, 880, 5, H, NONE, 23, 1);
+    }
+
+    /** What is missing behind the figure 0 takes the figure 1 back once more, from where the first hit has pushed it. */
+    private static void bothReachAtTheWall() {
+        DuelFrames x = with(4, 2, 8, 40, DuelFrames.MID, 100);
+        x.begin(300);
+        for (int i = 0; i < 2; i++) {
+            x.play(60, 2, 1);
+        }
+        Check.same("at the wall", x.of(0, 0), 0);
+        Check.same("the nearest place", x.of(1, 0), 20);
+        x.play(1, 10, 10);
+        x.play(4, 0, 0);
+        Check.figure("the wall behind the figure 0", x, 0, 0, 880, 5, H, NONE, 23, 1);
+        Check.figure("goes back by what is missing, too", x, 1, 40, 880, 5, H, NONE, 23, 1);
+    }
+
+    /** The run of calls of the issue 5. */
+    private static void bothReachLate() {
+        DuelFrames x = with(5, 1, 1, 50, DuelFrames.HIGH, 50);
+        x.move(5, 1, 1, 50, DuelFrames.HIGH, 50);
+        x.begin(30);
+        x.play(60, 0, 0);
+        x.play(1, 2, 10);
+        x.play(60, 0, 0);
+        x.play(1, 11, 10);
+        for (int i = 0; i < 8; i++) {
+            x.play(60, 0, 0);
+        }
+        Check.same("the figure 0 is pushed, too", x.of(0, 0), 262);
+        Check.same("the figure 1 was pushed first", x.of(1, 0), 325);
+        Check.same("and the round was played to its end", x.goesOn() ? 1 : 0, 0);
+        Check.same("in reach of both", x.again(126, 1, 0) - x.again(126, 0, 0), 43);
+        Check.same("ahead of both hits", x.again(126, 0, 0), 272);
+        Check.same("behind both hits", x.again(127, 0, 0), 262);
     }
 
     private static void throwsHit() {

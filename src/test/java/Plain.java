@@ -227,24 +227,20 @@ final class Plain {
         s[SIZE + PLACE] = right;
     }
 
-    private static boolean could(int[] s, int by, int other, List<int[]> moves) {
+    private static boolean reaches(int[] s, int by, int other, List<int[]> moves) {
         if (s[by + DOES] != 1 || s[by + TOUCHED] != NEVER) {
             return false;
         }
         int[] m = moves.get(s[by + IN]);
         int frame = s[by + LEFT];
-        return frame >= m[0] && frame < m[0] + m[1] && (m[4] != 3 || s[other + DOES] <= 1);
+        boolean active = frame >= m[0] && frame < m[0] + m[1];
+        return active && (m[4] != 3 || s[other + DOES] <= 1) && s[SIZE + PLACE] - s[PLACE] <= m[3];
     }
 
     private static void strikes(int[] s, int t, int[] given, List<int[]> moves) {
         int[] was = s.clone();
-        boolean[] could = {could(was, 0, SIZE, moves), could(was, SIZE, 0, moves)};
-        boolean parts = could[0] && could[1];
-        for (int f = 0; f < 2 && parts; f++) {
-            int[] m = moves.get(was[f * SIZE + IN]);
-            parts = m[4] == 3 && was[SIZE + PLACE] - was[PLACE] <= m[3];
-        }
-        if (parts) {
+        boolean[] reach = {reaches(was, 0, SIZE, moves), reaches(was, SIZE, 0, moves)};
+        if (reach[0] && reach[1] && moves.get(was[IN])[4] == 3 && moves.get(was[SIZE + IN])[4] == 3) {
             s[TOUCHED] = t;
             s[SIZE + TOUCHED] = t;
             s[PLACE] = Math.max(0, s[PLACE] - 20);
@@ -253,7 +249,7 @@ final class Plain {
         }
         for (int f = 0; f < 2; f++) {
             int by = f * SIZE;
-            if (could[f] && s[SIZE + PLACE] - s[PLACE] <= moves.get(was[by + IN])[3]) {
+            if (reach[f]) {
                 lands(s, was, by, SIZE - by, t, given[1 - f], moves.get(was[by + IN]));
             }
         }
