@@ -2,22 +2,25 @@ import java.util.function.IntSupplier;
 
 /** All promises: runs of many calls, wrong ones among them, against Plain. */
 public final class WildTest {
-    private static final int RUNS = 400;
+    private static final int RUNS = 4000;
+    /** What an object answers behind its call 512 is free. */
     private static final int CALLS = 512;
+    private static final int CALLS_OF_A_STEP = 60;
     private static final int[] WRONG = {-1, Integer.MIN_VALUE, Integer.MAX_VALUE, 7, 61, 601, 5, 9, 16};
 
     private static long mixed = 20261119;
     private static int moves;
+    private static int calls;
 
     public static void main(String[] args) {
         for (int run = 0; run < RUNS; run++) {
             DuelFrames x = new DuelFrames();
             Plain p = new Plain();
             moves = 0;
+            calls = 0;
             makeMoves(run, x, p);
-            int left = CALLS - 16;
-            while (left > 0) {
-                left -= call(run, x, p);
+            while (calls + CALLS_OF_A_STEP <= CALLS) {
+                call(run, x, p);
             }
         }
         Check.end("WildTest");
@@ -53,17 +56,22 @@ public final class WildTest {
 
     private static void same(int run, String what, DuelFrames x, Plain p, IntSupplier got, IntSupplier want) {
         int due = answer(want);
+        calls++;
         Check.same("run " + run + ": " + what, answer(got), due);
         if (due > 1_000_000) {
             sameState(run, what, x, p);
         }
     }
 
+    /** All that is told of the figures, each fourth time; otherwise some of it. */
     private static void sameState(int run, String what, DuelFrames x, Plain p) {
-        for (int i = 0; i < 16; i++) {
+        boolean isAll = upTo(4) == 0;
+        for (int i = isAll ? 0 : upTo(4); i < 16; i += isAll ? 1 : 4) {
+            calls++;
             Check.same("run " + run + ": " + what + ", then of(" + i / 8 + ", " + i % 8 + ")",
                     x.of(i / 8, i % 8), p.of(i / 8, i % 8));
         }
+        calls += 2;
         Check.same("run " + run + ": " + what + ", then goesOn", x.goesOn() ? 1 : 0, p.goesOn() ? 1 : 0);
         Check.same("run " + run + ": " + what + ", then winner", x.winner(), p.winner());
     }
@@ -115,35 +123,28 @@ public final class WildTest {
         return maybeWrong(moves > 0 && upTo(5) < 3 ? 10 + upTo(moves) : going[upTo(going.length)]);
     }
 
-    /** Answers how many calls it made, about. */
-    private static int call(int run, DuelFrames x, Plain p) {
+    private static void call(int run, DuelFrames x, Plain p) {
         int which = upTo(100);
         if (which < 60) {
-            return play(run, x, p);
-        }
-        if (which < 70) {
+            play(run, x, p);
+        } else if (which < 70) {
             int apart = upTo(3) != 0 ? 20 + 2 * upTo(20) : maybeWrong(between(20, 300));
             same(run, "begin(" + apart + ")", x, p, () -> x.begin(apart), () -> p.begin(apart));
             sameState(run, "begin", x, p);
-            return 1;
-        }
-        if (which < 80) {
+        } else if (which < 80) {
             int frame = maybeWrong(upTo(6) == 0 ? upTo(600) : upTo(120));
             int figure = maybeWrong(upTo(2));
             int what = maybeWrong(upTo(7));
             same(run, "again(" + frame + ", " + figure + ", " + what + ")", x, p,
                     () -> x.again(frame, figure, what), () -> p.again(frame, figure, what));
-            return 1;
-        }
-        if (which < 90) {
+        } else if (which < 90) {
             change(run, x, p);
-            return 1;
+        } else {
+            look(run, x, p);
         }
-        look(run, x, p);
-        return 1;
     }
 
-    private static int play(int run, DuelFrames x, Plain p) {
+    private static void play(int run, DuelFrames x, Plain p) {
         int frames = maybeWrong(upTo(4) == 0 ? between(1, 60) : between(1, 4));
         int one = anyInput();
         int two = anyInput();
@@ -153,7 +154,6 @@ public final class WildTest {
         int figure = maybeWrong(upTo(2));
         int told = maybeWrong(upTo(8));
         same(run, "of(" + figure + ", " + told + ")", x, p, () -> x.of(figure, told), () -> p.of(figure, told));
-        return 2;
     }
 
     private static void change(int run, DuelFrames x, Plain p) {
