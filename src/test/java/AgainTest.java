@@ -54,14 +54,15 @@ public final class AgainTest {
     }
 
     private static void playTill(DuelFrames x, int till) {
-        for (int frames = 0; frames < till; ) {
+        int frames = 0;
+        for (int i = 0; i < FRAMES && frames < till; i++) {
             frames = playSome(x, frames, till);
         }
     }
 
     private static int playOut(DuelFrames x) {
         int frames = 0;
-        while (x.goesOn()) {
+        for (int i = 0; i < FRAMES && x.goesOn(); i++) {
             frames = playSome(x, frames, FRAMES);
         }
         return frames;
@@ -120,7 +121,7 @@ public final class AgainTest {
     private static DuelFrames laterRound() {
         DuelFrames x = withMoves();
         x.begin(20);
-        while (x.goesOn()) {
+        for (int i = 0; i < 20 && x.goesOn(); i++) {
             x.play(30, 10, 11);
         }
         int left = x.of(0, 2);

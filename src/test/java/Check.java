@@ -56,6 +56,12 @@ final class Check {
         }
     }
 
+    static void figure(String what, Sided x, int figure, int... want) {
+        for (int i = 0; i < want.length; i++) {
+            same(what + ": of(" + figure + ", " + i + ")", x.of(figure, i), want[i]);
+        }
+    }
+
     static void end(String test) {
         System.out.println(test + ": " + done + " checks, " + wrong + " wrong");
         if (wrong != 0 || done == 0) {

@@ -5,6 +5,15 @@ public final class EdgesOfAgainTest {
     private static final int FAR_BELOW = Integer.MIN_VALUE, FAR_ABOVE = Integer.MAX_VALUE;
 
     public static void main(String[] args) {
+        for (int figure = 0; figure < 2; figure++) {
+            Sided.seeFrom(figure);
+            all();
+        }
+        Sided.seeFrom(0);
+        Check.end("EdgesOfAgainTest");
+    }
+
+    private static void all() {
         noFrameAheadOfTheFirstRound();
         theFrameZero();
         noMoreFramesThanTheRoundHas();
@@ -23,10 +32,9 @@ public final class EdgesOfAgainTest {
         theMovesOfALaterRound();
         behindTheSet();
         nothingIsChangedByIt();
-        Check.end("EdgesOfAgainTest");
     }
 
-    private static void told(String what, DuelFrames x, int frame, int figure, int... want) {
+    private static void told(String what, Sided x, int frame, int figure, int... want) {
         for (int i = 0; i < want.length; i++) {
             Check.same(what + ": again(" + frame + ", " + figure + ", " + i + ")", x.again(frame, figure, i), want[i]);
         }
@@ -34,7 +42,7 @@ public final class EdgesOfAgainTest {
 
     // "ahead of the first round there is no frame"
     private static void noFrameAheadOfTheFirstRound() {
-        DuelFrames x = Scene.withQuick(MID, 100);
+        Sided x = Scene.withQuick(MID, 100);
         for (int frame : new int[] {0, 1, -1, 600, FAR_BELOW, FAR_ABOVE}) {
             Check.outOfBounds("frame " + frame, () -> x.again(frame, 0, 0));
         }
@@ -43,7 +51,7 @@ public final class EdgesOfAgainTest {
 
     // "frame: 0 .."
     private static void theFrameZero() {
-        DuelFrames x = new DuelFrames();
+        Sided x = new Sided();
         x.begin(100);
         told("as it begins", x, 0, 0, 250, 1000, 0, S, NONE, 0, 0);
         told("as it begins", x, 0, 1, 350, 1000, 0, S, NONE, 0, 0);
@@ -57,7 +65,7 @@ public final class EdgesOfAgainTest {
 
     // ".. to how many frames the round has", "Throws IndexOutOfBoundsException if there is no such frame"
     private static void noMoreFramesThanTheRoundHas() {
-        DuelFrames x = new DuelFrames();
+        Sided x = new Sided();
         x.begin(300);
         for (int frames = 0; frames <= 3; frames++) {
             int beyond = frames + 1;
@@ -69,7 +77,7 @@ public final class EdgesOfAgainTest {
     }
 
     private static void framesOfARoundThatGoesOn() {
-        DuelFrames x = Scene.with(3, 2, 4, 150, MID, 100);
+        Sided x = Scene.with(3, 2, 4, 150, MID, 100);
         x.begin(40);
         x.play(1, 10, 0);
         Scene.wait(x, 30);
@@ -85,7 +93,7 @@ public final class EdgesOfAgainTest {
     }
 
     private static void sixHundredFrames() {
-        DuelFrames x = new DuelFrames();
+        Sided x = new Sided();
         x.begin(20);
         Scene.wait(x, 599);
         x.play(1, 2, 0);
@@ -95,7 +103,7 @@ public final class EdgesOfAgainTest {
     }
 
     private static void framesOfARoundThatIsOver() {
-        DuelFrames x = Scene.withQuick(MID, 200);
+        Sided x = Scene.withQuick(MID, 200);
         x.begin(20);
         Check.same("over by life", x.play(60, 10, 0), 23);
         told("the last frame", x, 23, 1, 390, -40, 0, H, NONE, 5, 8);
@@ -106,7 +114,7 @@ public final class EdgesOfAgainTest {
 
     // "figure: 0 or 1", "Throws IndexOutOfBoundsException if there is no such .. figure"
     private static void figures() {
-        DuelFrames x = new DuelFrames();
+        Sided x = new Sided();
         x.begin(20);
         for (int figure : new int[] {-1, 2, FAR_BELOW, FAR_ABOVE}) {
             Check.outOfBounds("figure " + figure, () -> x.again(0, figure, 0));
@@ -117,7 +125,7 @@ public final class EdgesOfAgainTest {
 
     // "what: 0 to 6", "Throws IllegalArgumentException if what is out of range"
     private static void whats() {
-        DuelFrames x = new DuelFrames();
+        Sided x = new Sided();
         x.begin(20);
         for (int what : new int[] {-1, 7, 8, FAR_BELOW, FAR_ABOVE}) {
             Check.outOfRange("what " + what, () -> x.again(0, 0, what));
@@ -128,7 +136,7 @@ public final class EdgesOfAgainTest {
 
     // "The first line of a method's throws clause that applies decides"
     private static void firstLine() {
-        DuelFrames x = new DuelFrames();
+        Sided x = new Sided();
         x.begin(20);
         Check.outOfBounds("no frame, no what", () -> x.again(1, 0, 7));
         Check.outOfBounds("no frame below, no what", () -> x.again(-1, 0, -1));
@@ -138,7 +146,7 @@ public final class EdgesOfAgainTest {
 
     // "of the latest round"
     private static void theLatestRoundAlone() {
-        DuelFrames x = new DuelFrames();
+        Sided x = new Sided();
         x.begin(20);
         Scene.wait(x, 600);
         Check.same("of the first round", x.again(600, 0, 0), 290);
@@ -152,7 +160,7 @@ public final class EdgesOfAgainTest {
     }
 
     private static void aRefusedBeginIsNoRound() {
-        DuelFrames x = new DuelFrames();
+        Sided x = new Sided();
         Check.outOfRange("19 apart", () -> x.begin(19));
         Check.outOfBounds("there is no round", () -> x.again(0, 0, 0));
         x.begin(20);
@@ -166,7 +174,7 @@ public final class EdgesOfAgainTest {
     }
 
     private static void aRefusedPlayIsNoFrame() {
-        DuelFrames x = new DuelFrames();
+        Sided x = new Sided();
         x.begin(20);
         Check.outOfRange("0 frames", () -> x.play(0, 2, 2));
         Check.outOfRange("61 frames", () -> x.play(61, 2, 2));
@@ -180,7 +188,7 @@ public final class EdgesOfAgainTest {
     }
 
     private static void theMeterAsTheRoundBegan() {
-        DuelFrames x = Scene.withQuick(MID, 1);
+        Sided x = Scene.withQuick(MID, 1);
         x.patch(0, 4, 60);
         x.move(1, 1, 1, 150, MID, 1);
         x.patch(1, 3, 60);
@@ -200,7 +208,7 @@ public final class EdgesOfAgainTest {
     // "by the moves as they were in it, whatever they are by now"
     private static void theMovesAsTheyWere() {
         for (int what = 0; what < 5; what++) {
-            DuelFrames x = Scene.withQuick(MID, 100);
+            Sided x = Scene.withQuick(MID, 100);
             x.patch(0, 3, 0);
             x.begin(20);
             x.play(1, 10, 0);
@@ -224,7 +232,7 @@ public final class EdgesOfAgainTest {
 
     private static void theCancelsAsTheyWere() {
         for (int is = 0; is < 2; is++) {
-            DuelFrames x = Scene.with(1, 1, 40, 150, MID, 10);
+            Sided x = Scene.with(1, 1, 40, 150, MID, 10);
             x.move(1, 1, 40, 150, MID, 10);
             x.cancel(0, 1, is == 1);
             x.begin(20);
@@ -239,7 +247,7 @@ public final class EdgesOfAgainTest {
     }
 
     private static void theMovesOfALaterRound() {
-        DuelFrames x = Scene.withQuick(MID, 100);
+        Sided x = Scene.withQuick(MID, 100);
         x.begin(20);
         Scene.waitOut(x);
         x.patch(0, 2, 60);
@@ -254,7 +262,7 @@ public final class EdgesOfAgainTest {
     }
 
     private static void behindTheSet() {
-        DuelFrames x = Scene.withQuick(MID, 200);
+        Sided x = Scene.withQuick(MID, 200);
         for (int round = 1; round <= 2; round++) {
             x.begin(20);
             x.play(60, 10, 0);
@@ -267,7 +275,7 @@ public final class EdgesOfAgainTest {
     }
 
     private static void nothingIsChangedByIt() {
-        DuelFrames x = Scene.withQuick(MID, 200);
+        Sided x = Scene.withQuick(MID, 200);
         x.begin(20);
         x.play(5, 10, 0);
         for (int frame = 0; frame <= 5; frame++) {

@@ -4,11 +4,23 @@ public final class EdgesOfFramesTest {
     private static final int NONE = DuelFrames.NONE, MID = DuelFrames.MID;
 
     public static void main(String[] args) {
+        for (int figure = 0; figure < 2; figure++) {
+            Sided.seeFrom(figure);
+            all();
+        }
+        Sided.seeFrom(0);
+        lessThanTwentyApart();
+        Check.end("EdgesOfFramesTest");
+    }
+
+    private static void all() {
         keptForFiveFramesInAMove();
         keptForFiveFramesWhileHit();
         keptForFiveFramesWhileItBlocks();
         keptForFiveFramesTillItTouches();
         keptWhateverInputsCome();
+        keptThroughAHit();
+        keptThroughABlock();
         keptInPlaceOfAnother();
         keptForItsOwnFiveFrames();
         keptInPlaceEvenIfItCannotBegin();
@@ -31,17 +43,15 @@ public final class EdgesOfFramesTest {
         fourForwardThreeBack();
         onlyThoseWhoStandGo();
         whoBeginsDoesNotGo();
-        lessThanTwentyApart();
         theStageBeginsAtZero();
         theStageEndsAtSixHundred();
         twentyFromTheEnd();
         bothGoToTheEnd();
-        Check.end("EdgesOfFramesTest");
     }
 
     /** Two moves of ten frames that reach nobody, as far as the nearest is 20. */
-    private static DuelFrames withTwo() {
-        DuelFrames x = Scene.with(4, 1, 5, 1, MID, 10);
+    private static Sided withTwo() {
+        Sided x = Scene.with(4, 1, 5, 1, MID, 10);
         x.move(4, 1, 5, 1, MID, 10);
         return x;
     }
@@ -50,7 +60,7 @@ public final class EdgesOfFramesTest {
 
     private static void keptForFiveFramesInAMove() {
         for (int frame = 2; frame <= 10; frame++) {
-            DuelFrames x = withTwo();
+            Sided x = withTwo();
             x.begin(100);
             x.play(1, 10, 0);
             Scene.wait(x, frame - 2);
@@ -66,7 +76,7 @@ public final class EdgesOfFramesTest {
 
     private static void keptForFiveFramesWhileHit() {
         for (int frame = 16; frame <= 21; frame++) {
-            DuelFrames x = Scene.withQuick(MID, 10);
+            Sided x = Scene.withQuick(MID, 10);
             x.begin(100);
             x.play(1, 10, 0);
             Scene.wait(x, frame - 2);
@@ -81,7 +91,7 @@ public final class EdgesOfFramesTest {
 
     private static void keptForFiveFramesWhileItBlocks() {
         for (int frame = 8; frame <= 13; frame++) {
-            DuelFrames x = Scene.withQuick(MID, 10);
+            Sided x = Scene.withQuick(MID, 10);
             x.begin(100);
             x.play(1, 10, 0);
             x.play(1, 0, 4);
@@ -98,7 +108,7 @@ public final class EdgesOfFramesTest {
     /** It touches in the frame 11; from then on there is the meter for the other one. */
     private static void keptForFiveFramesTillItTouches() {
         for (int frame = 6; frame <= 12; frame++) {
-            DuelFrames x = Scene.with(10, 1, 30, 150, MID, 10);
+            Sided x = Scene.with(10, 1, 30, 150, MID, 10);
             x.move(4, 1, 5, 1, MID, 10);
             x.cancel(0, 1, true);
             x.patch(1, 3, 5);
@@ -116,7 +126,7 @@ public final class EdgesOfFramesTest {
     }
 
     private static void keptWhateverInputsCome() {
-        DuelFrames x = withTwo();
+        Sided x = withTwo();
         x.begin(100);
         x.play(1, 10, 0);
         Scene.wait(x, 5);
@@ -126,9 +136,44 @@ public final class EdgesOfFramesTest {
         Check.figure("no other input takes its place", x, 0, 250, 1000, 0, M, 1, 1, 0);
     }
 
+    /** HIT in a MOVE in the frame 2, for 4 frames: the input of that frame begins in the frame 6. */
+    private static void keptThroughAHit() {
+        for (int stun = 0; stun <= 1; stun++) {
+            Sided x = Scene.withQuick(MID, 10);
+            x.move(4, 1, 40, 1, MID, 10);
+            x.patch(0, 0, stun);
+            x.begin(100);
+            x.play(1, 10, 11);
+            x.play(1, 0, 10);
+            Check.same("HIT out of its move", x.of(1, 3), H);
+            Scene.wait(x, 3 + stun);
+            Check.same("free", x.of(1, 3), S);
+            x.play(1, 0, 0);
+            Check.same("free in the frame " + (6 + stun), x.of(1, 4), stun == 0 ? 0 : NONE);
+        }
+    }
+
+    /** BLOCKS once more in the frame 5: the input of the frame 4 begins in the frame 8 at the latest. */
+    private static void keptThroughABlock() {
+        for (int stun = 2; stun <= 4; stun++) {
+            Sided x = Scene.withQuick(MID, 10);
+            x.move(1, 1, 1, 150, MID, 10);
+            x.patch(1, 1, stun);
+            x.begin(100);
+            Scene.quick(x, 0, 4);
+            x.play(1, 11, 10);
+            x.play(1, 0, 4);
+            Check.same("BLOCKS once more", x.of(1, 5), stun - 1);
+            Scene.wait(x, stun - 1);
+            Check.same("free", x.of(1, 3), S);
+            x.play(1, 0, 0);
+            Check.same("free in the frame " + (5 + stun), x.of(1, 4), stun <= 3 ? 0 : NONE);
+        }
+    }
+
     // "in place of one that was kept"
     private static void keptInPlaceOfAnother() {
-        DuelFrames x = withTwo();
+        Sided x = withTwo();
         x.move(1, 1, 1, 1, MID, 10);
         x.begin(100);
         x.play(1, 10, 0);
@@ -144,7 +189,7 @@ public final class EdgesOfFramesTest {
     }
 
     private static void keptForItsOwnFiveFrames() {
-        DuelFrames x = withTwo();
+        Sided x = withTwo();
         x.begin(100);
         x.play(1, 10, 0);
         Scene.wait(x, 4);
@@ -152,7 +197,7 @@ public final class EdgesOfFramesTest {
         Scene.wait(x, 3);
         x.play(1, 0, 0);
         Check.same("twice, in the frames 6 and 7", x.of(0, 4), 1);
-        DuelFrames y = withTwo();
+        Sided y = withTwo();
         y.begin(100);
         y.play(1, 10, 0);
         Scene.wait(y, 3);
@@ -163,7 +208,7 @@ public final class EdgesOfFramesTest {
     }
 
     private static void keptInPlaceEvenIfItCannotBegin() {
-        DuelFrames x = withTwo();
+        Sided x = withTwo();
         x.patch(1, 3, 1);
         x.begin(100);
         x.play(1, 10, 0);
@@ -177,7 +222,7 @@ public final class EdgesOfFramesTest {
     // "it is dropped when it begins"
     private static void droppedWhenItBegins() {
         for (int figure = 0; figure < 2; figure++) {
-            DuelFrames x = Scene.with(1, 1, 1, 1, MID, 10);
+            Sided x = Scene.with(1, 1, 1, 1, MID, 10);
             x.begin(100);
             x.play(1, figure == 0 ? 10 : 0, figure == 1 ? 10 : 0);
             Check.same("in the move", x.of(figure, 3), M);
@@ -191,7 +236,7 @@ public final class EdgesOfFramesTest {
 
     // "and as a round begins"
     private static void droppedAsARoundBegins() {
-        DuelFrames x = withTwo();
+        Sided x = withTwo();
         x.begin(100);
         Scene.wait(x, 595);
         x.play(1, 10, 10);
@@ -209,7 +254,7 @@ public final class EdgesOfFramesTest {
     // ---- 2. "begins, if its cost is at most the meter"
 
     private static void cost(int gain, int cost, boolean begins) {
-        DuelFrames x = Scene.withQuick(MID, 10);
+        Sided x = Scene.withQuick(MID, 10);
         x.move(4, 1, 5, 1, MID, 10);
         x.patch(0, 4, gain);
         x.patch(1, 3, cost);
@@ -236,7 +281,7 @@ public final class EdgesOfFramesTest {
     }
 
     private static void costOfTheFigureOne() {
-        DuelFrames x = Scene.withQuick(MID, 10);
+        Sided x = Scene.withQuick(MID, 10);
         x.patch(0, 3, 5);
         x.move(1, 1, 1, 150, MID, 10);
         x.begin(100);
@@ -250,7 +295,7 @@ public final class EdgesOfFramesTest {
 
     // "The cost is taken"
     private static void theCostIsTakenOnce() {
-        DuelFrames x = Scene.withQuick(MID, 10);
+        Sided x = Scene.withQuick(MID, 10);
         x.move(4, 1, 5, 1, MID, 10);
         x.patch(0, 4, 60);
         x.patch(1, 3, 20);
@@ -266,7 +311,7 @@ public final class EdgesOfFramesTest {
 
     // "and the figure STANDS, or is in a MOVE that has touched in it"
     private static void beginsOnlyIfItStands() {
-        DuelFrames x = Scene.withQuick(MID, 10);
+        Sided x = Scene.withQuick(MID, 10);
         x.move(4, 1, 5, 1, MID, 10);
         x.cancel(1, 0, true);
         x.begin(100);
@@ -279,7 +324,7 @@ public final class EdgesOfFramesTest {
         Check.figure("HIT out of it", x, 1, 360, 988, 5, H, NONE, 23, 1);
         x.play(18, 0, 10);
         Check.figure("HIT: none begins", x, 1, 360, 988, 5, H, NONE, 5, 1);
-        DuelFrames y = Scene.withQuick(MID, 10);
+        Sided y = Scene.withQuick(MID, 10);
         y.begin(100);
         y.play(1, 10, 0);
         y.play(1, 0, 4);
@@ -288,15 +333,15 @@ public final class EdgesOfFramesTest {
     }
 
     /** A move that touches in its fourth frame and is over behind the 34th, and one into which it may be cancelled. */
-    private static DuelFrames withCancel(int kind) {
-        DuelFrames x = Scene.with(3, 1, 30, 150, kind, 10);
+    private static Sided withCancel(int kind) {
+        Sided x = Scene.with(3, 1, 30, 150, kind, 10);
         x.move(4, 1, 5, 1, MID, 10);
         x.cancel(0, 1, true);
         return x;
     }
 
     private static void noCancelAheadOfTheTouch() {
-        DuelFrames x = withCancel(MID);
+        Sided x = withCancel(MID);
         x.begin(100);
         x.play(1, 10, 0);
         for (int frame = 2; frame <= 4; frame++) {
@@ -306,7 +351,7 @@ public final class EdgesOfFramesTest {
     }
 
     private static void noCancelWithoutATouch() {
-        DuelFrames x = withCancel(MID);
+        Sided x = withCancel(MID);
         x.begin(152);
         x.play(1, 10, 0);
         x.play(33, 11, 0);
@@ -317,7 +362,7 @@ public final class EdgesOfFramesTest {
 
     // "and may be cancelled into that one"
     private static void noCancelIntoOthers() {
-        DuelFrames x = withCancel(MID);
+        Sided x = withCancel(MID);
         x.move(4, 1, 5, 1, MID, 10);
         x.cancel(2, 0, true);
         x.cancel(1, 2, true);
@@ -335,7 +380,7 @@ public final class EdgesOfFramesTest {
     }
 
     private static void noCancelByTheTouchOfTheMoveAhead() {
-        DuelFrames x = Scene.withQuick(MID, 10);
+        Sided x = Scene.withQuick(MID, 10);
         x.move(5, 1, 5, 1, MID, 10);
         x.cancel(1, 0, true);
         x.begin(100);
@@ -351,7 +396,7 @@ public final class EdgesOfFramesTest {
 
     /** The touch is in the frame 4, the input in one frame alone. */
     private static void cancelIn(String what, int kind, int guard, int frame, boolean begins) {
-        DuelFrames x = withCancel(kind);
+        Sided x = withCancel(kind);
         x.begin(100);
         x.play(1, 10, kind == DuelFrames.THROW ? 10 : 0);
         x.play(3, 0, guard);
@@ -384,7 +429,7 @@ public final class EdgesOfFramesTest {
     }
 
     private static void cancelOfTheFrameOfTheTouch() {
-        DuelFrames x = withCancel(MID);
+        Sided x = withCancel(MID);
         x.begin(100);
         x.play(1, 10, 0);
         Scene.wait(x, 2);
@@ -396,7 +441,7 @@ public final class EdgesOfFramesTest {
 
     // "the figure is in the frame 0 of it"
     private static void cancelIntoTheFrameZero() {
-        DuelFrames x = Scene.with(3, 1, 30, 150, MID, 10);
+        Sided x = Scene.with(3, 1, 30, 150, MID, 10);
         x.cancel(0, 0, true);
         x.begin(20);
         x.play(1, 10, 0);
@@ -412,7 +457,7 @@ public final class EdgesOfFramesTest {
 
     private static void cancelByItsCost() {
         for (int cost = 5; cost <= 6; cost++) {
-            DuelFrames x = withCancel(MID);
+            Sided x = withCancel(MID);
             x.patch(1, 3, cost);
             x.begin(100);
             x.play(1, 10, 0);
@@ -426,15 +471,15 @@ public final class EdgesOfFramesTest {
     // ---- 3. "Those who STAND go: 4 forward with the input 1, 3 back with the input 2"
 
     private static void fourForwardThreeBack() {
-        DuelFrames x = withTwo();
+        Sided x = withTwo();
         int[] left = {250, 254, 247, 250, 250};
         int[] right = {350, 346, 353, 350, 350};
         for (int input = 0; input <= 4; input++) {
-            DuelFrames y = withTwo();
+            Sided y = withTwo();
             y.begin(100);
             y.play(1, input, 0);
             Scene.places("the figure 0 with " + input, y, left[input], 350);
-            DuelFrames z = withTwo();
+            Sided z = withTwo();
             z.begin(100);
             z.play(1, 0, input);
             Scene.places("the figure 1 with " + input, z, 250, right[input]);
@@ -446,14 +491,14 @@ public final class EdgesOfFramesTest {
 
     private static void onlyThoseWhoStandGo() {
         for (int input = 1; input <= 2; input++) {
-            DuelFrames x = withTwo();
+            Sided x = withTwo();
             x.begin(100);
             x.play(1, 10, 10);
             x.play(9, input, input);
             Scene.places("in a MOVE, input " + input, x, 250, 350);
             x.play(1, input, input);
             Scene.places("behind it", x, input == 1 ? 254 : 247, input == 1 ? 346 : 353);
-            DuelFrames y = Scene.withQuick(MID, 10);
+            Sided y = Scene.withQuick(MID, 10);
             y.begin(100);
             y.play(1, 10, 0);
             y.play(1, 0, 0);
@@ -461,7 +506,7 @@ public final class EdgesOfFramesTest {
             Scene.places("HIT, input " + input, y, 250, 360);
             y.play(1, 0, input);
             Scene.places("behind it", y, 250, input == 1 ? 356 : 363);
-            DuelFrames z = Scene.withQuick(MID, 10);
+            Sided z = Scene.withQuick(MID, 10);
             z.begin(100);
             z.play(1, 10, 0);
             z.play(1, 0, 4);
@@ -473,7 +518,7 @@ public final class EdgesOfFramesTest {
     }
 
     private static void whoBeginsDoesNotGo() {
-        DuelFrames x = withTwo();
+        Sided x = withTwo();
         x.begin(100);
         x.play(1, 10, 0);
         Scene.wait(x, 8);
@@ -485,7 +530,7 @@ public final class EdgesOfFramesTest {
 
     /** From these places, with these inputs, to these. */
     private static void goes(int left, int right, int one, int two, int leftDue, int rightDue) {
-        DuelFrames x = new DuelFrames();
+        Sided x = new Sided();
         Scene.at(x, left, right);
         x.play(1, one, two);
         Scene.places(left + " and " + right + " with " + one + " and " + two, x, leftDue, rightDue);

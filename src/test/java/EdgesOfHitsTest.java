@@ -6,6 +6,15 @@ public final class EdgesOfHitsTest {
     private static final int THROW = DuelFrames.THROW;
 
     public static void main(String[] args) {
+        for (int figure = 0; figure < 2; figure++) {
+            Sided.seeFrom(figure);
+            all();
+        }
+        Sided.seeFrom(0);
+        Check.end("EdgesOfHitsTest");
+    }
+
+    private static void all() {
         fromTheStartupOn();
         asManyAsAreActive();
         touchesOnce();
@@ -55,11 +64,10 @@ public final class EdgesOfHitsTest {
         oneFrameLess();
         noneLeft();
         countBehindTheLastFrame();
-        Check.end("EdgesOfHitsTest");
     }
 
     /** The hit or the block comes in the frame 2. */
-    private static void touch(DuelFrames x, int move, int guard) {
+    private static void touch(Sided x, int move, int guard) {
         x.play(1, 10 + move, 0);
         x.play(1, 0, guard);
     }
@@ -67,7 +75,7 @@ public final class EdgesOfHitsTest {
     // "A figure reaches the other one, if it is in a MOVE, in a frame from the startup on"
     private static void fromTheStartupOn() {
         for (int startup : new int[] {1, 2, 29, 30}) {
-            DuelFrames x = Scene.with(startup, 1, 5, 150, MID, 10);
+            Sided x = Scene.with(startup, 1, 5, 150, MID, 10);
             x.begin(100);
             x.play(1, 10, 0);
             Scene.wait(x, startup - 1);
@@ -80,7 +88,7 @@ public final class EdgesOfHitsTest {
 
     /** The figure 1 comes into the reach in one frame of the round. */
     private static void active(int startup, int active, int frame, boolean hits) {
-        DuelFrames x = Scene.with(startup, active, 5, 40, MID, 10);
+        Sided x = Scene.with(startup, active, 5, 40, MID, 10);
         x.begin(44);
         x.play(1, 10, frame == 1 ? 1 : 0);
         Scene.wait(x, frame - 2);
@@ -105,7 +113,7 @@ public final class EdgesOfHitsTest {
     // "the MOVE has not touched yet"
     private static void touchesOnce() {
         for (int guard = 0; guard <= 4; guard += 4) {
-            DuelFrames x = Scene.with(1, 10, 1, 150, MID, 10);
+            Sided x = Scene.with(1, 10, 1, 150, MID, 10);
             x.patch(0, 0, 0);
             x.patch(0, 1, 0);
             x.begin(20);
@@ -122,13 +130,13 @@ public final class EdgesOfHitsTest {
     }
 
     private static void reach(int reach, int apart, boolean hits) {
-        DuelFrames x = Scene.with(1, 1, 5, reach, MID, 10);
+        Sided x = Scene.with(1, 1, 5, reach, MID, 10);
         x.begin(apart % 2 == 0 ? apart : apart - 3);
         x.play(1, 0, apart % 2 == 0 ? 0 : 2);
         Check.same("so far apart", x.of(1, 0) - x.of(0, 0), apart);
         touch(x, 0, 0);
         Check.same("reach " + reach + ", " + apart + " apart", x.of(1, 1), hits ? 990 : 1000);
-        DuelFrames y = Scene.with(1, 1, 5, reach, MID, 10);
+        Sided y = Scene.with(1, 1, 5, reach, MID, 10);
         y.begin(apart % 2 == 0 ? apart : apart - 3);
         y.play(1, apart % 2 == 0 ? 0 : 2, 0);
         y.play(1, 0, 10);
@@ -160,11 +168,11 @@ public final class EdgesOfHitsTest {
     }
 
     private static void reachBehindTheGoing() {
-        DuelFrames x = Scene.with(1, 1, 5, 40, MID, 10);
+        Sided x = Scene.with(1, 1, 5, 40, MID, 10);
         x.begin(40);
         touch(x, 0, 2);
         Check.figure("who goes back in the frame is out of reach", x, 1, 323, 1000, 0, S, NONE, 0, 0);
-        DuelFrames y = Scene.with(1, 1, 5, 40, MID, 10);
+        Sided y = Scene.with(1, 1, 5, 40, MID, 10);
         y.begin(44);
         touch(y, 0, 1);
         Check.figure("who comes in the frame is in reach", y, 1, 328, 990, 0, H, NONE, 19, 1);
@@ -173,7 +181,7 @@ public final class EdgesOfHitsTest {
     // "but with a THROW only one who STANDS .."
     private static void throwsReachWhoStands() {
         for (int guard = 0; guard <= 4; guard++) {
-            DuelFrames x = Scene.withQuick(THROW, 100);
+            Sided x = Scene.withQuick(THROW, 100);
             x.begin(100);
             touch(x, 0, guard);
             Check.same("with the input " + guard, x.of(1, 1), 900);
@@ -184,7 +192,7 @@ public final class EdgesOfHitsTest {
     // ".. or is in a MOVE"
     private static void throwsReachWhoIsInAMove() {
         for (int frames = 1; frames <= 3; frames++) {
-            DuelFrames x = Scene.withQuick(THROW, 100);
+            Sided x = Scene.withQuick(THROW, 100);
             x.move(1, 1, 1, 1, MID, 10);
             x.begin(100);
             x.play(1, frames == 1 ? 10 : 0, 11);
@@ -201,7 +209,7 @@ public final class EdgesOfHitsTest {
 
     /** The move 0 touches in the frame 2, the THROW is active in the frame 5, or in 5 and 6. */
     private static void throwAtTheEndOfAStun(int guard, int stun, int active, boolean isThrown) {
-        DuelFrames x = Scene.withQuick(MID, 100);
+        Sided x = Scene.withQuick(MID, 100);
         x.move(1, active, 1, 150, THROW, 100);
         x.patch(0, guard == 4 ? 1 : 0, stun);
         x.begin(100);
@@ -235,7 +243,7 @@ public final class EdgesOfHitsTest {
 
     // "Both THROWs reaching in one frame touch, and do nothing but part the figures: each goes 20 back"
     private static void bothThrowsDoNothingButPart() {
-        DuelFrames x = Scene.with(3, 2, 20, 30, THROW, 200);
+        Sided x = Scene.with(3, 2, 20, 30, THROW, 200);
         x.begin(30);
         x.play(1, 10, 10);
         x.play(2, 0, 0);
@@ -249,7 +257,7 @@ public final class EdgesOfHitsTest {
     }
 
     private static void bothThrowsTouch() {
-        DuelFrames x = Scene.with(1, 10, 5, 150, THROW, 10);
+        Sided x = Scene.with(1, 10, 5, 150, THROW, 10);
         x.move(1, 1, 5, 150, MID, 10);
         x.cancel(0, 1, true);
         x.begin(20);
@@ -262,7 +270,7 @@ public final class EdgesOfHitsTest {
     }
 
     private static void parts(int left, int right, int leftDue, int rightDue) {
-        DuelFrames x = Scene.withQuick(THROW, 10);
+        Sided x = Scene.withQuick(THROW, 10);
         Scene.at(x, left, right);
         x.play(1, 10, 10);
         x.play(1, 0, 0);
@@ -289,7 +297,7 @@ public final class EdgesOfHitsTest {
 
     // "in one frame"
     private static void throwsOfTwoFramesDoNotPart() {
-        DuelFrames x = Scene.with(3, 5, 20, 150, THROW, 100);
+        Sided x = Scene.with(3, 5, 20, 150, THROW, 100);
         x.move(4, 5, 20, 150, THROW, 100);
         x.begin(20);
         x.play(1, 10, 11);
@@ -297,7 +305,7 @@ public final class EdgesOfHitsTest {
         Check.figure("the first one throws", x, 1, 320, 880, 0, H, NONE, 23, 1);
         x.play(5, 0, 0);
         Check.same("the later one does not", x.of(0, 1), 1000);
-        DuelFrames y = Scene.with(3, 1, 20, 150, THROW, 100);
+        Sided y = Scene.with(3, 1, 20, 150, THROW, 100);
         y.move(4, 1, 20, 150, THROW, 100);
         y.begin(20);
         y.play(1, 11, 10);
@@ -307,14 +315,14 @@ public final class EdgesOfHitsTest {
 
     // "Both THROWs reaching"
     private static void throwsOfTwoReachesDoNotPart() {
-        DuelFrames x = Scene.with(3, 1, 20, 40, THROW, 100);
+        Sided x = Scene.with(3, 1, 20, 40, THROW, 100);
         x.move(3, 1, 20, 39, THROW, 100);
         x.begin(40);
         x.play(1, 10, 11);
         x.play(3, 0, 0);
         Check.figure("who is not reached", x, 0, 280, 1000, 5, M, 0, 4, 0);
         Check.figure("who does not reach is thrown", x, 1, 330, 880, 0, H, NONE, 23, 1);
-        DuelFrames y = Scene.with(3, 1, 20, 40, THROW, 100);
+        Sided y = Scene.with(3, 1, 20, 40, THROW, 100);
         y.move(3, 1, 20, 39, THROW, 100);
         y.begin(40);
         y.play(1, 11, 10);
@@ -324,7 +332,7 @@ public final class EdgesOfHitsTest {
 
     /** The figure 0 has thrown in vain: the parting was its touch, and it is thrown in its later frames. */
     private static void throwsThatHaveTouchedDoNotPart() {
-        DuelFrames x = Scene.with(1, 10, 40, 150, THROW, 100);
+        Sided x = Scene.with(1, 10, 40, 150, THROW, 100);
         x.move(1, 1, 1, 150, THROW, 100);
         x.begin(20);
         x.play(1, 10, 11);
@@ -339,14 +347,14 @@ public final class EdgesOfHitsTest {
     // "Otherwise": one THROW and another kind, reaching in one frame
     private static void throwAndStrike() {
         for (int kind : new int[] {HIGH, LOW, MID}) {
-            DuelFrames x = Scene.with(3, 1, 20, 40, THROW, 100);
+            Sided x = Scene.with(3, 1, 20, 40, THROW, 100);
             x.move(3, 1, 20, 40, kind, 50);
             x.begin(40);
             x.play(1, 10, 11);
             x.play(3, 0, 0);
             Check.figure("struck", x, 0, 270, 940, 5, H, NONE, 23, 1);
             Check.figure("thrown", x, 1, 330, 880, 5, H, NONE, 23, 1);
-            DuelFrames y = Scene.with(3, 1, 20, 40, THROW, 100);
+            Sided y = Scene.with(3, 1, 20, 40, THROW, 100);
             y.move(3, 1, 20, 40, kind, 50);
             y.begin(40);
             y.play(1, 11, 10);
@@ -358,7 +366,7 @@ public final class EdgesOfHitsTest {
 
     // "by what both did, and their counts, ahead of all hits of this frame"
     private static void bothReachAheadOfThePush() {
-        DuelFrames x = Scene.with(3, 1, 20, 40, MID, 100);
+        Sided x = Scene.with(3, 1, 20, 40, MID, 100);
         x.patch(0, 2, 60);
         x.begin(40);
         x.play(1, 10, 10);
@@ -369,14 +377,14 @@ public final class EdgesOfHitsTest {
 
     private static void bothReachOrNot() {
         for (int reach = 39; reach <= 40; reach++) {
-            DuelFrames x = Scene.with(3, 1, 20, 40, MID, 100);
+            Sided x = Scene.with(3, 1, 20, 40, MID, 100);
             x.move(3, 1, 20, reach, MID, 100);
             x.begin(40);
             x.play(1, 10, 11);
             x.play(3, 0, 0);
             Check.same("reach " + reach + " of the figure 1", x.of(0, 1), reach == 40 ? 880 : 1000);
             Check.same("that of the figure 0", x.of(1, 1), 880);
-            DuelFrames y = Scene.with(3, 1, 20, 40, MID, 100);
+            Sided y = Scene.with(3, 1, 20, 40, MID, 100);
             y.move(3, 1, 20, reach, MID, 100);
             y.begin(40);
             y.play(1, 11, 10);
@@ -389,19 +397,19 @@ public final class EdgesOfHitsTest {
     // "but by places as they are by then, for each that reaches, the figure 0 first"
     private static void bothReachAtAnEnd() {
         // The hit of the figure 0 pushes the figure 1 by 10; what is missing behind the figure 0 pushes it once more.
-        DuelFrames x = Scene.with(3, 1, 20, 150, MID, 100);
+        Sided x = Scene.with(3, 1, 20, 150, MID, 100);
         Scene.at(x, 4, 40);
         x.play(1, 10, 10);
         x.play(3, 0, 0);
         Scene.places("at the left end", x, 0, 56);
         // 4 are missing behind the figure 1, so the figure 0 goes back by 4, and then by 10 for the hit of the other.
-        DuelFrames y = Scene.with(3, 1, 20, 150, MID, 100);
+        Sided y = Scene.with(3, 1, 20, 150, MID, 100);
         Scene.at(y, 560, 594);
         y.play(1, 10, 10);
         y.play(3, 0, 0);
         Scene.places("at the right end", y, 546, 600);
         // The push of the figure 0 takes the figure 1 to the end: what is missing then leaves it there.
-        DuelFrames z = Scene.with(3, 1, 20, 150, MID, 100);
+        Sided z = Scene.with(3, 1, 20, 150, MID, 100);
         z.move(3, 1, 20, 150, MID, 100);
         z.patch(0, 2, 60);
         Scene.at(z, 560, 590);
@@ -412,7 +420,7 @@ public final class EdgesOfHitsTest {
 
     /** The meter of the figure 0 behind blocked touches by these gains. */
     private static void gains(int due, int... gains) {
-        DuelFrames x = new DuelFrames();
+        Sided x = new Sided();
         for (int i = 0; i < gains.length; i++) {
             x.move(1, 1, 1, 150, MID, 1);
             x.patch(i, 4, gains[i]);
@@ -444,15 +452,15 @@ public final class EdgesOfHitsTest {
     }
 
     private static void gainByEachTouch() {
-        DuelFrames x = Scene.withQuick(MID, 1);
+        Sided x = Scene.withQuick(MID, 1);
         x.begin(20);
         touch(x, 0, 4);
         Check.same("by a block", x.of(0, 2), 5);
-        DuelFrames y = Scene.withQuick(THROW, 1);
+        Sided y = Scene.withQuick(THROW, 1);
         y.begin(20);
         touch(y, 0, 0);
         Check.same("by a THROW", y.of(0, 2), 5);
-        DuelFrames z = Scene.withQuick(MID, 1);
+        Sided z = Scene.withQuick(MID, 1);
         z.begin(152);
         touch(z, 0, 0);
         Check.same("by none", z.of(0, 2), 0);
@@ -468,7 +476,7 @@ public final class EdgesOfHitsTest {
         };
         for (int kind = HIGH; kind <= THROW; kind++) {
             for (int input = 0; input <= 4; input++) {
-                DuelFrames x = Scene.withQuick(kind, 100);
+                Sided x = Scene.withQuick(kind, 100);
                 x.begin(100);
                 touch(x, 0, input);
                 String what = "kind " + kind + ", input " + input;
@@ -480,13 +488,13 @@ public final class EdgesOfHitsTest {
     }
 
     private static void blockedInTheVeryFrame() {
-        DuelFrames x = Scene.with(5, 1, 5, 150, MID, 100);
+        Sided x = Scene.with(5, 1, 5, 150, MID, 100);
         x.begin(100);
         x.play(1, 10, 4);
         x.play(4, 0, 4);
         x.play(1, 0, 0);
         Check.same("the inputs ahead of it are no guard", x.of(1, 3), H);
-        DuelFrames y = Scene.with(5, 1, 5, 150, MID, 100);
+        Sided y = Scene.with(5, 1, 5, 150, MID, 100);
         y.begin(100);
         y.play(1, 10, 0);
         y.play(4, 0, 0);
@@ -496,7 +504,7 @@ public final class EdgesOfHitsTest {
 
     // "if the other one STANDS or BLOCKS"
     private static void blockedByWhoStandsOrBlocks() {
-        DuelFrames x = Scene.withQuick(MID, 100);
+        Sided x = Scene.withQuick(MID, 100);
         x.patch(0, 1, 60);
         x.begin(100);
         touch(x, 0, 4);
@@ -511,7 +519,7 @@ public final class EdgesOfHitsTest {
         touch(x, 0, 3);
         Check.figure("who BLOCKS without a guard is HIT", x, 1, 390, 870, 0, H, NONE, 19, 1);
         // Who STANDS with the input of a move that can't begin has no guard.
-        DuelFrames y = Scene.withQuick(MID, 100);
+        Sided y = Scene.withQuick(MID, 100);
         y.move(1, 1, 1, 1, MID, 1);
         y.patch(1, 3, 1);
         y.begin(100);
@@ -521,7 +529,7 @@ public final class EdgesOfHitsTest {
     }
 
     private static void notBlockedByWhoIsHit() {
-        DuelFrames x = Scene.withQuick(MID, 100);
+        Sided x = Scene.withQuick(MID, 100);
         // The second one comes in the frame 5: for a stun of 4 that is the last frame of HIT.
         x.patch(0, 0, 4);
         x.begin(100);
@@ -529,7 +537,7 @@ public final class EdgesOfHitsTest {
         x.play(1, 0, 4);
         touch(x, 0, 4);
         Check.same("in its last frame of HIT", x.of(1, 1), 1000 - 100 - 90);
-        DuelFrames y = Scene.withQuick(MID, 100);
+        Sided y = Scene.withQuick(MID, 100);
         y.patch(0, 0, 3);
         y.begin(100);
         touch(y, 0, 0);
@@ -540,14 +548,14 @@ public final class EdgesOfHitsTest {
 
     private static void notBlockedByWhoIsInAMove() {
         for (int input = 2; input <= 4; input += 2) {
-            DuelFrames x = Scene.withQuick(MID, 100);
+            Sided x = Scene.withQuick(MID, 100);
             x.move(1, 1, 1, 1, MID, 1);
             x.begin(100);
             x.play(1, 0, 11);
             x.play(1, 10, input);
             x.play(1, 0, input);
             Check.figure("in its last frame", x, 1, 360, 880, 0, H, NONE, 23, 1);
-            DuelFrames y = Scene.withQuick(MID, 100);
+            Sided y = Scene.withQuick(MID, 100);
             y.move(1, 1, 1, 1, MID, 1);
             y.begin(100);
             y.play(1, 0, 11);
@@ -561,7 +569,7 @@ public final class EdgesOfHitsTest {
     // "Then the other one loses a tenth of the damage, rounded down"
     private static void aTenthRoundedDown() {
         for (int damage : new int[] {1, 9, 10, 11, 19, 20, 99, 100, 199, 200}) {
-            DuelFrames x = Scene.withQuick(MID, damage);
+            Sided x = Scene.withQuick(MID, damage);
             x.begin(100);
             touch(x, 0, 4);
             Check.figure("a tenth of " + damage, x, 1, 360, 1000 - damage / 10, 0, B, NONE, 11, 0);
@@ -571,7 +579,7 @@ public final class EdgesOfHitsTest {
     // "and BLOCKS for the block stun"
     private static void blocksForTheStun() {
         for (int stun : new int[] {0, 1, 2, 3, 59, 60}) {
-            DuelFrames x = Scene.withQuick(MID, 10);
+            Sided x = Scene.withQuick(MID, 10);
             x.patch(0, 1, stun);
             x.begin(100);
             touch(x, 0, 4);
@@ -581,7 +589,7 @@ public final class EdgesOfHitsTest {
 
     // "Otherwise it is a hit: the count is 1 more if the other one is HIT"
     private static void countOfWhoIsHit() {
-        DuelFrames x = Scene.withQuick(MID, 1);
+        Sided x = Scene.withQuick(MID, 1);
         x.patch(0, 0, 60);
         x.patch(0, 2, 0);
         x.begin(100);
@@ -595,7 +603,7 @@ public final class EdgesOfHitsTest {
 
     // "otherwise 1"
     private static void countOfWhoIsNot() {
-        DuelFrames x = Scene.withQuick(MID, 10);
+        Sided x = Scene.withQuick(MID, 10);
         x.move(1, 1, 40, 1, MID, 10);
         x.begin(100);
         touch(x, 0, 0);
@@ -616,7 +624,7 @@ public final class EdgesOfHitsTest {
 
     /** A row of hits of one damage, with the losses that are due. */
     private static void row(int damage, int... due) {
-        DuelFrames x = Scene.withQuick(MID, damage);
+        Sided x = Scene.withQuick(MID, damage);
         x.patch(0, 0, 60);
         x.patch(0, 2, 0);
         x.begin(100);
@@ -647,7 +655,7 @@ public final class EdgesOfHitsTest {
     }
 
     private static void lossInAMove(int damage, int due) {
-        DuelFrames x = Scene.withQuick(MID, damage);
+        Sided x = Scene.withQuick(MID, damage);
         x.move(1, 1, 40, 1, MID, 10);
         x.begin(100);
         x.play(1, 10, 11);
@@ -661,7 +669,7 @@ public final class EdgesOfHitsTest {
         lossInAMove(10, 12);
         lossInAMove(100, 120);
         lossInAMove(200, 240);
-        DuelFrames x = Scene.withQuick(MID, 100);
+        Sided x = Scene.withQuick(MID, 100);
         x.move(1, 1, 1, 1, MID, 10);
         x.begin(100);
         x.play(1, 0, 11);
@@ -683,7 +691,7 @@ public final class EdgesOfHitsTest {
 
     // "It is HIT for the hit stun, less 2 for each hit of the count but the first one"
     private static void stunByTheCount() {
-        DuelFrames x = Scene.withQuick(MID, 1);
+        Sided x = Scene.withQuick(MID, 1);
         x.patch(0, 0, 60);
         x.patch(0, 2, 0);
         x.begin(100);
@@ -697,7 +705,7 @@ public final class EdgesOfHitsTest {
     // "and 4 more if it was in a MOVE"
     private static void stunInAMove() {
         for (int stun : new int[] {0, 1, 20, 59, 60}) {
-            DuelFrames x = Scene.withQuick(MID, 10);
+            Sided x = Scene.withQuick(MID, 10);
             x.move(1, 1, 40, 1, MID, 10);
             x.patch(0, 0, stun);
             x.begin(100);
@@ -709,7 +717,7 @@ public final class EdgesOfHitsTest {
 
     /** The second or third hit of a row, by a move of its own with this hit stun. */
     private static void lateStun(int hitsAhead, int stun, int left) {
-        DuelFrames x = Scene.withQuick(MID, 1);
+        Sided x = Scene.withQuick(MID, 1);
         x.move(1, 1, 1, 150, MID, 10);
         x.patch(1, 0, stun);
         x.begin(100);
@@ -741,12 +749,12 @@ public final class EdgesOfHitsTest {
 
     private static void push(int left, int right, int push, int leftDue, int rightDue) {
         for (int guard = 0; guard <= 4; guard += 4) {
-            DuelFrames x = Scene.withQuick(MID, 10);
+            Sided x = Scene.withQuick(MID, 10);
             x.patch(0, 2, push);
             Scene.at(x, left, right);
             touch(x, 0, guard);
             Scene.places("push " + push + " from " + left + " and " + right, x, leftDue, rightDue);
-            DuelFrames y = Scene.withQuick(MID, 10);
+            Sided y = Scene.withQuick(MID, 10);
             y.patch(0, 2, push);
             Scene.at(y, 600 - right, 600 - left);
             y.play(1, guard, 10);
@@ -766,11 +774,11 @@ public final class EdgesOfHitsTest {
     }
 
     private static void pushByABlock() {
-        DuelFrames x = Scene.withQuick(MID, 10);
+        Sided x = Scene.withQuick(MID, 10);
         x.begin(100);
         touch(x, 0, 4);
         Scene.places("a block pushes by as much", x, 250, 360);
-        DuelFrames y = Scene.withQuick(MID, 10);
+        Sided y = Scene.withQuick(MID, 10);
         y.begin(100);
         touch(y, 0, 2);
         Scene.places("from where it has gone", y, 250, 363);
@@ -797,7 +805,7 @@ public final class EdgesOfHitsTest {
     private static void behindTheLastFrame() {
         int[][] facts = {{1, 1, 1}, {30, 10, 40}, {1, 10, 1}, {30, 1, 1}, {1, 1, 40}};
         for (int[] f : facts) {
-            DuelFrames x = Scene.with(f[0], f[1], f[2], 1, MID, 10);
+            Sided x = Scene.with(f[0], f[1], f[2], 1, MID, 10);
             int frames = f[0] + f[1] + f[2];
             x.begin(100);
             x.play(1, 10, 0);
@@ -810,13 +818,13 @@ public final class EdgesOfHitsTest {
 
     // "Who is HIT or BLOCKS, also since this frame, has one frame less"
     private static void oneFrameLess() {
-        DuelFrames x = Scene.withQuick(MID, 10);
+        Sided x = Scene.withQuick(MID, 10);
         x.begin(100);
         touch(x, 0, 0);
         Check.same("HIT for 20 since this frame", x.of(1, 5), 19);
         x.play(1, 0, 0);
         Check.same("since the frame ahead", x.of(1, 5), 18);
-        DuelFrames y = Scene.withQuick(MID, 10);
+        Sided y = Scene.withQuick(MID, 10);
         y.begin(100);
         touch(y, 0, 4);
         Check.same("BLOCKS for 12 since this frame", y.of(1, 5), 11);
@@ -829,7 +837,7 @@ public final class EdgesOfHitsTest {
         for (int guard = 0; guard <= 4; guard += 4) {
             int does = guard == 4 ? B : H;
             for (int stun = 0; stun <= 3; stun++) {
-                DuelFrames x = Scene.withQuick(MID, 10);
+                Sided x = Scene.withQuick(MID, 10);
                 x.patch(0, guard == 4 ? 1 : 0, stun);
                 x.begin(100);
                 touch(x, 0, guard);
@@ -846,7 +854,7 @@ public final class EdgesOfHitsTest {
 
     // "The count of who is not HIT is 0."
     private static void countBehindTheLastFrame() {
-        DuelFrames x = Scene.withQuick(MID, 10);
+        Sided x = Scene.withQuick(MID, 10);
         x.begin(100);
         Scene.quick(x, 0, 0);
         touch(x, 0, 0);

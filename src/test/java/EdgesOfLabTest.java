@@ -26,6 +26,7 @@ public final class EdgesOfLabTest {
         punishIfItBlocksBehindAFrame();
         punishOfWhatIsNotBlocked();
         punishByItself();
+        punishInTwoHundredFrames();
         mostOfAMove();
         mostHits();
         mostMeter();
@@ -56,7 +57,7 @@ public final class EdgesOfLabTest {
     // "In it the figures are at 290 and 310"
     private static void theFiguresAreTwentyApart() {
         for (int reach : new int[] {1, 19, 20, 21}) {
-            DuelFrames x = Scene.with(4, 2, 8, reach, MID, 100);
+            Sided x = Scene.with(4, 2, 8, reach, MID, 100);
             Check.same("most with the reach " + reach, x.most(0, 1, 0), reach >= 20 ? 100 : 0);
             Check.same("mostAt with the reach " + reach, x.mostAt(0, 1, 0, 0), reach >= 20 ? 0 : NONE);
             Check.same("advantage with the reach " + reach, x.advantage(0, false), reach >= 20 ? 10 : -14);
@@ -65,7 +66,7 @@ public final class EdgesOfLabTest {
 
     // "and 100 for the meters"
     private static void aHundredForTheMeters() {
-        DuelFrames x = Scene.with(4, 2, 8, 150, MID, 100);
+        Sided x = Scene.with(4, 2, 8, 150, MID, 100);
         x.move(8, 3, 15, 150, HIGH, 150);
         for (int cost = 59; cost <= 60; cost++) {
             x.patch(0, 3, cost);
@@ -81,7 +82,7 @@ public final class EdgesOfLabTest {
     // "move: a move", "Throws IndexOutOfBoundsException if there is no such move"
     private static void advantageOfAMove() {
         for (int count = 0; count <= 6; count += 3) {
-            DuelFrames x = new DuelFrames();
+            Sided x = new Sided();
             for (int i = 0; i < count; i++) {
                 x.move(4, 2, 8 + i, 40, MID, 100);
             }
@@ -98,7 +99,7 @@ public final class EdgesOfLabTest {
 
     // "the number of frames behind which the figure 1 STANDS for good (0, if it always does)"
     private static void advantageByTheHitStun() {
-        DuelFrames x = Scene.with(4, 2, 8, 40, MID, 100);
+        Sided x = Scene.with(4, 2, 8, 40, MID, 100);
         for (int stun = 0; stun <= 60; stun++) {
             x.patch(0, 0, stun);
             Check.same("hit stun " + stun, x.advantage(0, false), (stun >= 2 ? 4 + stun : 0) - 14);
@@ -107,7 +108,7 @@ public final class EdgesOfLabTest {
     }
 
     private static void advantageByTheBlockStun() {
-        DuelFrames x = Scene.with(4, 2, 8, 40, MID, 100);
+        Sided x = Scene.with(4, 2, 8, 40, MID, 100);
         for (int stun = 0; stun <= 60; stun++) {
             x.patch(0, 1, stun);
             Check.same("block stun " + stun, x.advantage(0, true), (stun >= 2 ? 4 + stun : 0) - 14);
@@ -116,10 +117,10 @@ public final class EdgesOfLabTest {
     }
 
     private static void advantageOfTheShortestAndTheLongest() {
-        DuelFrames x = Scene.with(1, 1, 1, 150, MID, 1);
+        Sided x = Scene.with(1, 1, 1, 150, MID, 1);
         Check.same("the shortest, hit", x.advantage(0, false), 21 - 3);
         Check.same("the shortest, blocked", x.advantage(0, true), 13 - 3);
-        DuelFrames y = Scene.with(30, 10, 40, 150, MID, 1);
+        Sided y = Scene.with(30, 10, 40, 150, MID, 1);
         Check.same("the longest, hit", y.advantage(0, false), 50 - 80);
         Check.same("the longest, blocked", y.advantage(0, true), 42 - 80);
         y.patch(0, 0, 60);
@@ -130,7 +131,7 @@ public final class EdgesOfLabTest {
 
     // "Returns the frames, below 0 if the figure 1 is free first."
     private static void advantageBelowNothing() {
-        DuelFrames x = Scene.with(4, 2, 8, 40, MID, 100);
+        Sided x = Scene.with(4, 2, 8, 40, MID, 100);
         x.patch(0, 0, 9);
         Check.same("the figure 1 a frame ahead", x.advantage(0, false), -1);
         x.patch(0, 0, 10);
@@ -140,12 +141,12 @@ public final class EdgesOfLabTest {
     }
 
     private static void advantageIfTheOtherOneAlwaysStands() {
-        DuelFrames x = Scene.with(4, 2, 8, 19, MID, 100);
+        Sided x = Scene.with(4, 2, 8, 19, MID, 100);
         Check.same("out of reach", x.advantage(0, false), -14);
         Check.same("out of reach, going back", x.advantage(0, true), -14);
-        DuelFrames y = Scene.with(1, 1, 1, 19, MID, 100);
+        Sided y = Scene.with(1, 1, 1, 19, MID, 100);
         Check.same("the shortest", y.advantage(0, false), -3);
-        DuelFrames z = Scene.with(30, 10, 40, 19, MID, 100);
+        Sided z = Scene.with(30, 10, 40, 19, MID, 100);
         Check.same("the longest", z.advantage(0, false), -80);
     }
 
@@ -153,7 +154,7 @@ public final class EdgesOfLabTest {
     private static void blocksBehindAsManyAsTheStartup() {
         for (int startup : new int[] {1, 4, 30}) {
             for (int reach : new int[] {22, 23}) {
-                DuelFrames x = Scene.with(startup, 10, 1, reach, MID, 100);
+                Sided x = Scene.with(startup, 10, 1, reach, MID, 100);
                 int reached = startup + 12;
                 int free = startup + 11;
                 String what = "startup " + startup + ", reach " + reach;
@@ -167,7 +168,7 @@ public final class EdgesOfLabTest {
     private static void blocksLowForALowOneAlone() {
         for (int kind = HIGH; kind <= THROW; kind++) {
             for (int reach : new int[] {19, 20, 22, 23}) {
-                DuelFrames x = Scene.with(4, 1, 9, reach, kind, 100);
+                Sided x = Scene.with(4, 1, 9, reach, kind, 100);
                 boolean isReached = reach >= (kind == LOW ? 20 : 23);
                 int stun = kind == THROW ? 20 : 12;
                 String what = "kind " + kind + ", reach " + reach;
@@ -179,17 +180,17 @@ public final class EdgesOfLabTest {
     // ---- punish
 
     /** Move 0 is blocked in the frame 9; who blocks is free in 21, who strikes behind 26. */
-    private static DuelFrames toPunish(int startup, int reach, int kind, int damage) {
-        DuelFrames x = Scene.with(8, 3, 15, 60, HIGH, 150);
+    private static Sided toPunish(int startup, int reach, int kind, int damage) {
+        Sided x = Scene.with(8, 3, 15, 60, HIGH, 150);
         x.move(startup, 1, 5, reach, kind, damage);
         return x;
     }
 
     // "move: the other one, that is blocked", "by: the punishing one", "if there is no such move, of either"
     private static void punishOfAMove() {
-        DuelFrames none = new DuelFrames();
+        Sided none = new Sided();
         Check.outOfBounds("there is none", () -> none.punish(0, 0));
-        DuelFrames x = toPunish(4, 40, MID, 100);
+        Sided x = toPunish(4, 40, MID, 100);
         for (int move : new int[] {-1, 2, FAR_BELOW, FAR_ABOVE}) {
             Check.outOfBounds("move " + move, () -> x.punish(move, 0));
             Check.outOfBounds("by " + move, () -> x.punish(0, move));
@@ -203,7 +204,7 @@ public final class EdgesOfLabTest {
     private static void punishInTheLastFrame() {
         for (int kind = HIGH; kind <= THROW; kind++) {
             for (int startup = 1; startup <= 5; startup++) {
-                DuelFrames x = toPunish(startup, 150, kind, 100);
+                Sided x = toPunish(startup, 150, kind, 100);
                 Check.same("kind " + kind + ", startup " + startup, x.punish(0, 1), 120);
             }
         }
@@ -211,12 +212,12 @@ public final class EdgesOfLabTest {
 
     private static void punishAFrameLater() {
         for (int kind = HIGH; kind <= THROW; kind++) {
-            DuelFrames x = toPunish(6, 150, kind, 100);
+            Sided x = toPunish(6, 150, kind, 100);
             Check.same("kind " + kind, x.punish(0, 1), kind == THROW ? 100 : 10);
-            DuelFrames y = toPunish(5, 150, kind, 100);
+            Sided y = toPunish(5, 150, kind, 100);
             y.patch(0, 1, 13);
             Check.same("kind " + kind + ", free a frame later", y.punish(0, 1), kind == THROW ? 100 : 10);
-            DuelFrames z = toPunish(6, 150, kind, 100);
+            Sided z = toPunish(6, 150, kind, 100);
             z.patch(0, 1, 11);
             Check.same("kind " + kind + ", free a frame sooner", z.punish(0, 1), 120);
         }
@@ -226,20 +227,20 @@ public final class EdgesOfLabTest {
     private static void punishIsTheLesserOfBoth() {
         int[] tenths = {9, 10, 19, 20};
         for (int damage : tenths) {
-            DuelFrames x = toPunish(6, 150, HIGH, damage);
+            Sided x = toPunish(6, 150, HIGH, damage);
             Check.same("blocked high, damage " + damage, x.punish(0, 1), damage / 10);
-            DuelFrames y = toPunish(6, 150, LOW, damage);
+            Sided y = toPunish(6, 150, LOW, damage);
             Check.same("blocked low, damage " + damage, y.punish(0, 1), damage / 10);
-            DuelFrames z = toPunish(6, 150, MID, damage);
+            Sided z = toPunish(6, 150, MID, damage);
             Check.same("blocked with both, damage " + damage, z.punish(0, 1), damage / 10);
         }
     }
 
     /** With 2 the figure 0 goes back by 3 in the frame in which it could be hit: 36 apart then. */
     private static void punishByGoingOutOfReach() {
-        DuelFrames x = toPunish(6, 35, THROW, 100);
+        Sided x = toPunish(6, 35, THROW, 100);
         Check.same("out of reach with 2", x.punish(0, 1), 0);
-        DuelFrames y = toPunish(6, 36, THROW, 100);
+        Sided y = toPunish(6, 36, THROW, 100);
         Check.same("not quite", y.punish(0, 1), 100);
     }
 
@@ -249,7 +250,7 @@ public final class EdgesOfLabTest {
             Check.same("high, reach " + reach, toPunish(4, reach, MID, 100).punish(0, 1), reach == 33 ? 120 : 0);
         }
         for (int reach = 29; reach <= 30; reach++) {
-            DuelFrames x = Scene.with(8, 3, 15, 60, LOW, 150);
+            Sided x = Scene.with(8, 3, 15, 60, LOW, 150);
             x.move(4, 1, 5, reach, MID, 100);
             Check.same("low, reach " + reach, x.punish(0, 1), reach == 30 ? 120 : 0);
         }
@@ -257,7 +258,7 @@ public final class EdgesOfLabTest {
 
     // "in that frame it has the punishing move, then nothing"
     private static void punishOnceAlone() {
-        DuelFrames x = Scene.with(1, 1, 40, 150, MID, 1);
+        Sided x = Scene.with(1, 1, 40, 150, MID, 1);
         x.move(1, 1, 1, 150, MID, 100);
         x.patch(0, 1, 2);
         Check.same("though there was time for more", x.punish(0, 1), 120);
@@ -265,7 +266,7 @@ public final class EdgesOfLabTest {
 
     // "until it BLOCKS behind a frame", "0 if it never BLOCKS behind a frame"
     private static void punishIfItBlocksBehindAFrame() {
-        DuelFrames x = toPunish(4, 150, MID, 100);
+        Sided x = toPunish(4, 150, MID, 100);
         int[] due = {0, 0, 120, 120};
         for (int stun = 0; stun < due.length; stun++) {
             x.patch(0, 1, stun);
@@ -277,33 +278,45 @@ public final class EdgesOfLabTest {
 
     // "Returns the loss; 0 if it was not blocked."
     private static void punishOfWhatIsNotBlocked() {
-        DuelFrames x = Scene.with(8, 3, 15, 60, THROW, 150);
+        Sided x = Scene.with(8, 3, 15, 60, THROW, 150);
         x.move(1, 1, 1, 150, MID, 100);
         Check.same("a THROW", x.punish(0, 1), 0);
         for (int reach = 22; reach <= 23; reach++) {
-            DuelFrames y = Scene.with(8, 3, 15, reach, HIGH, 150);
+            Sided y = Scene.with(8, 3, 15, reach, HIGH, 150);
             y.move(1, 1, 1, 150, MID, 100);
             Check.same("high, reach " + reach, y.punish(0, 1), reach == 23 ? 120 : 0);
         }
         for (int reach = 19; reach <= 20; reach++) {
-            DuelFrames y = Scene.with(8, 3, 15, reach, LOW, 150);
+            Sided y = Scene.with(8, 3, 15, reach, LOW, 150);
             y.move(1, 1, 1, 150, MID, 100);
             Check.same("low, reach " + reach, y.punish(0, 1), reach == 20 ? 120 : 0);
         }
     }
 
     private static void punishByItself() {
-        DuelFrames x = Scene.with(2, 1, 30, 150, MID, 100);
+        Sided x = Scene.with(2, 1, 30, 150, MID, 100);
         Check.same("a slow one by itself", x.punish(0, 0), 120);
-        DuelFrames y = Scene.with(2, 1, 5, 150, MID, 100);
+        Sided y = Scene.with(2, 1, 5, 150, MID, 100);
         Check.same("a quick one by itself", y.punish(0, 0), 10);
+    }
+
+    // "in 200 frames": blocked in the frame 31, free behind the 90th; the slowest THROW comes in the frame 121
+    private static void punishInTwoHundredFrames() {
+        for (int recovery = 37; recovery <= 40; recovery++) {
+            Sided x = Scene.with(30, 10, recovery, 150, LOW, 10);
+            x.move(30, 10, 40, 150, THROW, 200);
+            x.patch(0, 1, 60);
+            x.patch(0, 2, 0);
+            // With 2 it goes back by 3 in each frame behind its recovery, till the 121st: 20 and 129 are in reach.
+            Check.same("recovery " + recovery, x.punish(0, 1), recovery >= 38 ? 200 : 0);
+        }
     }
 
     // ---- most
 
     /** It hits from afar, again and again; at most 28 hits in a row. */
-    private static DuelFrames withLoop(int damage) {
-        DuelFrames x = Scene.withQuick(MID, damage);
+    private static Sided withLoop(int damage) {
+        Sided x = Scene.withQuick(MID, damage);
         x.patch(0, 0, 60);
         x.patch(0, 2, 0);
         return x;
@@ -311,9 +324,9 @@ public final class EdgesOfLabTest {
 
     // "move: the first one", "Throws IndexOutOfBoundsException if there is no such move"
     private static void mostOfAMove() {
-        DuelFrames none = new DuelFrames();
+        Sided none = new Sided();
         Check.outOfBounds("there is none", () -> none.most(0, 1, 0));
-        DuelFrames x = withLoop(100);
+        Sided x = withLoop(100);
         for (int move : new int[] {-1, 1, FAR_BELOW, FAR_ABOVE}) {
             Check.outOfBounds("move " + move, () -> x.most(move, 1, 0));
         }
@@ -322,7 +335,7 @@ public final class EdgesOfLabTest {
 
     // "hits: 1 to 4"
     private static void mostHits() {
-        DuelFrames x = withLoop(100);
+        Sided x = withLoop(100);
         for (int hits : new int[] {0, 5, -1, FAR_BELOW, FAR_ABOVE}) {
             Check.outOfRange("hits " + hits, () -> x.most(0, hits, 0));
         }
@@ -332,7 +345,7 @@ public final class EdgesOfLabTest {
 
     // "meter: 0 to 100"
     private static void mostMeter() {
-        DuelFrames x = withLoop(100);
+        Sided x = withLoop(100);
         for (int meter : new int[] {-1, 101, FAR_BELOW, FAR_ABOVE}) {
             Check.outOfRange("meter " + meter, () -> x.most(0, 1, meter));
         }
@@ -342,7 +355,7 @@ public final class EdgesOfLabTest {
 
     // "The first line of a method's throws clause that applies decides"
     private static void firstLineOfMost() {
-        DuelFrames x = withLoop(100);
+        Sided x = withLoop(100);
         Check.outOfBounds("the move, then the hits", () -> x.most(1, 0, 0));
         Check.outOfBounds("the move, then the meter", () -> x.most(-1, 1, 101));
         Check.outOfBounds("mostAt: the move, then the hits", () -> x.mostAt(1, 5, 0, 0));
@@ -364,7 +377,7 @@ public final class EdgesOfLabTest {
             }
         }
         // Fewer, if there are no more: the third one comes out of reach.
-        DuelFrames x = Scene.with(1, 1, 1, 39, MID, 100);
+        Sided x = Scene.with(1, 1, 1, 39, MID, 100);
         x.patch(0, 0, 60);
         for (int hits = 2; hits <= 4; hits++) {
             Check.same("two of " + hits, x.most(0, hits, 0), 190);
@@ -376,7 +389,7 @@ public final class EdgesOfLabTest {
     // "the meter of the figure 0 is as told there"
     private static void mostByTheMeter() {
         for (int cost : new int[] {0, 1, 59, 60}) {
-            DuelFrames x = withLoop(100);
+            Sided x = withLoop(100);
             x.patch(0, 3, cost);
             Check.same("cost " + cost + " of it", x.most(0, 1, cost), 100);
             Check.same("cost " + cost + " of 100", x.most(0, 1, 100), 100);
@@ -388,7 +401,7 @@ public final class EdgesOfLabTest {
     }
 
     private static void mostByTheGain() {
-        DuelFrames x = withLoop(100);
+        Sided x = withLoop(100);
         x.patch(0, 3, 20);
         x.patch(0, 4, 5);
         Check.same("20, then 5", x.most(0, 2, 20), 100);
@@ -401,7 +414,7 @@ public final class EdgesOfLabTest {
     }
 
     private static void theMeterIsAHundredAtMost() {
-        DuelFrames x = withLoop(100);
+        Sided x = withLoop(100);
         x.move(1, 1, 1, 150, MID, 200);
         x.patch(0, 4, 60);
         x.patch(1, 0, 60);
@@ -417,7 +430,7 @@ public final class EdgesOfLabTest {
 
     // "Returns the loss; 0 if the first one does not hit."
     private static void theFirstOneDoesNotHit() {
-        DuelFrames x = Scene.with(1, 1, 1, 19, MID, 100);
+        Sided x = Scene.with(1, 1, 1, 19, MID, 100);
         x.move(1, 1, 1, 150, MID, 100);
         for (int hits = 1; hits <= 4; hits++) {
             Check.same("out of reach, " + hits, x.most(0, hits, 100), 0);
@@ -429,7 +442,7 @@ public final class EdgesOfLabTest {
     // "a hit behind whose frame the count is not more does not count, nor does the first one"
     private static void theFirstOneDoesNotCount() {
         for (int stun = 0; stun <= 2; stun++) {
-            DuelFrames x = Scene.with(4, 2, 8, 40, MID, 100);
+            Sided x = Scene.with(4, 2, 8, 40, MID, 100);
             x.patch(0, 0, stun);
             Check.same("hit stun " + stun, x.most(0, 1, 0), stun == 2 ? 100 : 0);
             Check.same("hit stun " + stun, x.mostAt(0, 1, 0, 0), stun == 2 ? 0 : NONE);
@@ -439,7 +452,7 @@ public final class EdgesOfLabTest {
     private static void aLaterOneDoesNotCount() {
         // The first one is pushed out of its own reach; the stun of the second is 2 less.
         for (int stun = 0; stun <= 4; stun++) {
-            DuelFrames x = Scene.with(1, 1, 1, 29, MID, 100);
+            Sided x = Scene.with(1, 1, 1, 29, MID, 100);
             x.move(1, 1, 1, 150, MID, 100);
             x.patch(0, 0, 60);
             x.patch(1, 0, stun);
@@ -453,7 +466,7 @@ public final class EdgesOfLabTest {
         int[] stuns = {13, 14, 15, 16, 17, 18, 19};
         int[] due = {100, 100, 190, 190, 270, 270, 340};
         for (int i = 0; i < stuns.length; i++) {
-            DuelFrames x = Scene.with(4, 2, 8, 150, MID, 100);
+            Sided x = Scene.with(4, 2, 8, 150, MID, 100);
             x.patch(0, 0, stuns[i]);
             Check.same("hit stun " + stuns[i], x.most(0, 4, 0), due[i]);
         }
@@ -462,20 +475,20 @@ public final class EdgesOfLabTest {
     // "it counts if behind one of the next 60 frames the count of the figure 1 is more"
     private static void oneOfTheNextSixtyFrames() {
         for (int active = 9; active <= 10; active++) {
-            DuelFrames x = Scene.with(10, active, 40, 150, MID, 100);
+            Sided x = Scene.with(10, active, 40, 150, MID, 100);
             x.patch(0, 0, 60);
             // The stun of 60 is over behind the 59th frame behind the hit.
             Check.same("the next one " + (50 + active) + " frames later", x.most(0, 2, 0), active == 9 ? 190 : 100);
         }
         // "the first hit coming in at most 60 frames, too"
-        DuelFrames y = Scene.with(30, 10, 40, 150, MID, 100);
+        Sided y = Scene.with(30, 10, 40, 150, MID, 100);
         Check.same("the slowest first one", y.most(0, 4, 0), 100);
     }
 
     // "its input in each frame behind that until it begins, then nothing"
     private static void tillItBeginsThenNothing() {
         // 38 frames of recovery: the input is kept for 5, so it is there in each frame.
-        DuelFrames x = Scene.with(1, 1, 38, 150, MID, 100);
+        Sided x = Scene.with(1, 1, 38, 150, MID, 100);
         x.patch(0, 0, 60);
         Check.same("it waits for the end of the move", x.most(0, 2, 0), 190);
         // With the cancel it begins at once, with none it waits: both hit.
@@ -489,26 +502,26 @@ public final class EdgesOfLabTest {
         int[] reaches = {20, 29, 30, 39, 40, 49, 50};
         int[] due = {100, 100, 190, 190, 270, 270, 340};
         for (int i = 0; i < reaches.length; i++) {
-            DuelFrames x = Scene.with(1, 1, 1, reaches[i], MID, 100);
+            Sided x = Scene.with(1, 1, 1, reaches[i], MID, 100);
             x.patch(0, 0, 60);
             Check.same("reach " + reaches[i], x.most(0, 4, 0), due[i]);
         }
     }
 
     private static void throwsOfWhoIsHit() {
-        DuelFrames x = Scene.withQuick(THROW, 100);
+        Sided x = Scene.withQuick(THROW, 100);
         x.move(1, 1, 1, 150, MID, 100);
         x.patch(0, 0, 60);
         Check.same("a THROW first, then the other one", x.most(0, 2, 0), 190);
         Check.same("not a THROW", x.mostAt(0, 2, 0, 1), 1);
-        DuelFrames y = Scene.withQuick(THROW, 100);
+        Sided y = Scene.withQuick(THROW, 100);
         y.patch(0, 0, 60);
         Check.same("a THROW alone", y.most(0, 4, 0), 100);
     }
 
     // "the row that is first by numbers, one by one, of such"
     private static void firstByNumbers() {
-        DuelFrames x = new DuelFrames();
+        Sided x = new Sided();
         for (int i = 0; i < 6; i++) {
             x.move(1, 1, 1, 150, MID, 100);
             x.patch(i, 0, 60);
@@ -521,7 +534,7 @@ public final class EdgesOfLabTest {
             }
         }
         // One by one: 0 1 0 is ahead of 0 1 1 and of 0 2 0, as 0 itself does not come second.
-        DuelFrames y = Scene.with(1, 1, 40, 20, MID, 100);
+        Sided y = Scene.with(1, 1, 40, 20, MID, 100);
         y.move(1, 1, 1, 150, MID, 100);
         y.move(1, 1, 1, 150, MID, 100);
         for (int i = 0; i < 3; i++) {
@@ -535,7 +548,7 @@ public final class EdgesOfLabTest {
     // "one with which another one begins ahead of that"
     private static void theOneWithWhichAnotherBegins() {
         for (int damage = 1; damage <= 2; damage++) {
-            DuelFrames x = withLoop(damage);
+            Sided x = withLoop(damage);
             // A second hit of 1 takes 9 tenths of 1, that is 0; one of 2 takes 1.
             Check.same("damage " + damage, x.most(0, 4, 0), damage == 1 ? 1 : 2 + 1 + 1 + 1);
             Check.same("the first", x.mostAt(0, 4, 0, 0), 0);
@@ -548,9 +561,9 @@ public final class EdgesOfLabTest {
 
     // "Throws IndexOutOfBoundsException if there is no such move .."
     private static void mostAtOfAMove() {
-        DuelFrames none = new DuelFrames();
+        Sided none = new Sided();
         Check.outOfBounds("there is none", () -> none.mostAt(0, 1, 0, 0));
-        DuelFrames x = withLoop(100);
+        Sided x = withLoop(100);
         for (int move : new int[] {-1, 1, FAR_BELOW, FAR_ABOVE}) {
             Check.outOfBounds("move " + move, () -> x.mostAt(move, 1, 0, 0));
         }
@@ -558,7 +571,7 @@ public final class EdgesOfLabTest {
     }
 
     private static void mostAtHitsAndMeter() {
-        DuelFrames x = withLoop(100);
+        Sided x = withLoop(100);
         for (int hits : new int[] {0, 5, -1, FAR_BELOW, FAR_ABOVE}) {
             Check.outOfRange("hits " + hits, () -> x.mostAt(0, hits, 0, 0));
         }
@@ -572,7 +585,7 @@ public final class EdgesOfLabTest {
 
     // "place: 0 for the first one"
     private static void placeOfTheFirstOne() {
-        DuelFrames x = withLoop(100);
+        Sided x = withLoop(100);
         x.move(1, 1, 1, 150, MID, 200);
         x.patch(1, 0, 60);
         x.patch(1, 2, 0);
@@ -583,29 +596,29 @@ public final class EdgesOfLabTest {
 
     // "or place is below 0"
     private static void placeBelowNothing() {
-        DuelFrames x = withLoop(100);
+        Sided x = withLoop(100);
         Check.outOfBounds("-1", () -> x.mostAt(0, 1, 0, -1));
         Check.outOfBounds("far below", () -> x.mostAt(0, 4, 0, FAR_BELOW));
-        DuelFrames y = Scene.with(1, 1, 1, 1, MID, 100);
+        Sided y = Scene.with(1, 1, 1, 1, MID, 100);
         Check.outOfBounds("-1 of no row", () -> y.mostAt(0, 1, 0, -1));
     }
 
     // "NONE if there are not so many"
     private static void placeBeyondTheRow() {
         for (int hits = 1; hits <= 4; hits++) {
-            DuelFrames x = withLoop(100);
+            Sided x = withLoop(100);
             Check.same("the last of " + hits, x.mostAt(0, hits, 0, hits - 1), 0);
             Check.same("one beyond " + hits, x.mostAt(0, hits, 0, hits), NONE);
             Check.same("far beyond " + hits, x.mostAt(0, hits, 0, FAR_ABOVE), NONE);
         }
         // What an earlier call has found is no part of a later row.
-        DuelFrames y = withLoop(100);
+        Sided y = withLoop(100);
         Check.same("four", y.mostAt(0, 4, 0, 3), 0);
         Check.same("then one", y.mostAt(0, 1, 0, 1), NONE);
     }
 
     private static void theMovesAsTheyAreByNow() {
-        DuelFrames x = withLoop(100);
+        Sided x = withLoop(100);
         Check.same("four", x.most(0, 4, 0), 340);
         x.patch(0, 0, 2);
         Check.same("one", x.most(0, 4, 0), 100);

@@ -37,12 +37,12 @@ public final class EdgesOfMovesTest {
         Check.end("EdgesOfMovesTest");
     }
 
-    private static int make(DuelFrames x, int[] facts) {
+    private static int make(Sided x, int[] facts) {
         return x.move(facts[0], facts[1], facts[2], facts[3], facts[4], facts[5]);
     }
 
-    private static DuelFrames withMoves(int count) {
-        DuelFrames x = new DuelFrames();
+    private static Sided withMoves(int count) {
+        Sided x = new Sided();
         for (int i = 0; i < count; i++) {
             x.move(1 + i, 1 + i, 1 + i, 20 + i, i % 4, 10 + i);
         }
@@ -51,7 +51,7 @@ public final class EdgesOfMovesTest {
 
     // "DuelFrames(): No moves, no round."
     private static void noMovesNoRound() {
-        DuelFrames x = new DuelFrames();
+        Sided x = new Sided();
         Check.outOfBounds("no move to patch", () -> x.patch(0, 0, 0));
         Check.outOfBounds("no move to cancel", () -> x.cancel(0, 0, true));
         Check.outOfBounds("no advantage", () -> x.advantage(0, false));
@@ -67,7 +67,7 @@ public final class EdgesOfMovesTest {
 
     // "Moves are numbered from 0, .."
     private static void numberedFromZero() {
-        DuelFrames x = new DuelFrames();
+        Sided x = new Sided();
         for (int i = 0; i < 6; i++) {
             int number = i;
             Check.outOfBounds("not there yet: " + i, () -> x.patch(number, 0, 20));
@@ -78,7 +78,7 @@ public final class EdgesOfMovesTest {
 
     // ".. at most 6", "Throws IllegalStateException if there are 6"
     private static void atMostSix() {
-        DuelFrames x = withMoves(5);
+        Sided x = withMoves(5);
         Check.same("the sixth", x.move(1, 1, 1, 1, 0, 1), 5);
         Check.notNow("the seventh", () -> x.move(1, 1, 1, 1, 0, 1));
         Check.outOfBounds("it is not there", () -> x.patch(6, 0, 20));
@@ -88,7 +88,7 @@ public final class EdgesOfMovesTest {
 
     // "The first line of a method's throws clause that applies decides"
     private static void theSeventhWithAWrongArgument() {
-        DuelFrames x = withMoves(6);
+        Sided x = withMoves(6);
         for (int i = 0; i < 6; i++) {
             int[] facts = LEAST.clone();
             facts[i] = LEAST[i] - 1;
@@ -101,7 +101,7 @@ public final class EdgesOfMovesTest {
 
     /** One argument at both ends of its range, and just and far outside of both. */
     private static void range(String what, int argument) {
-        DuelFrames x = new DuelFrames();
+        Sided x = new Sided();
         int least = LEAST[argument];
         int greatest = GREATEST[argument];
         for (int value : new int[] {least - 1, greatest + 1, FAR_BELOW, FAR_ABOVE}) {
@@ -152,7 +152,7 @@ public final class EdgesOfMovesTest {
     // "both figures have all of them"
     private static void bothFiguresHaveAll() {
         for (int move = 0; move < 6; move++) {
-            DuelFrames x = withMoves(6);
+            Sided x = withMoves(6);
             x.begin(300);
             x.play(1, 10 + move, 10 + move);
             Check.same("the figure 0 in the move " + move, x.of(0, 4), move);
@@ -162,7 +162,7 @@ public final class EdgesOfMovesTest {
 
     // move "Throws IllegalStateException if .. a round goes on"
     private static void noMoveInARound() {
-        DuelFrames x = withMoves(2);
+        Sided x = withMoves(2);
         x.begin(100);
         Check.notNow("as the round begins", () -> make(x, LEAST));
         x.play(1, 0, 0);
@@ -176,7 +176,7 @@ public final class EdgesOfMovesTest {
     }
 
     private static void aMoveBehindARound() {
-        DuelFrames x = withMoves(2);
+        Sided x = withMoves(2);
         x.begin(300);
         Scene.waitOut(x);
         Check.same("the round is over: the next number", make(x, LEAST), 2);
@@ -186,7 +186,7 @@ public final class EdgesOfMovesTest {
 
     // "a hit stun and a block stun, 20 and 12 at first, a push, 10 at first, a cost and a gain, 0 and 5 at first"
     private static void traitsAtFirst() {
-        DuelFrames x = withMoves(6);
+        Sided x = withMoves(6);
         for (int move = 0; move < 6; move++) {
             for (int what = 0; what < 5; what++) {
                 Check.same("move " + move + ", what " + what, x.patch(move, what, 1), FIRST_TRAITS[what]);
@@ -196,7 +196,7 @@ public final class EdgesOfMovesTest {
 
     // "it may be cancelled into others, none at first"
     private static void noCancelsAtFirst() {
-        DuelFrames x = withMoves(6);
+        Sided x = withMoves(6);
         for (int i = 0; i < 36; i++) {
             Check.no("from " + i / 6 + " into " + i % 6, x.cancel(i / 6, i % 6, true));
         }
@@ -208,7 +208,7 @@ public final class EdgesOfMovesTest {
     // patch: "move: a move", "Throws IndexOutOfBoundsException if there is no such move"
     private static void patchOfAMove() {
         for (int count : new int[] {0, 1, 6}) {
-            DuelFrames x = withMoves(count);
+            Sided x = withMoves(count);
             for (int move : new int[] {-1, count, FAR_BELOW, FAR_ABOVE}) {
                 Check.outOfBounds("move " + move + " of " + count, () -> x.patch(move, 0, 0));
             }
@@ -220,7 +220,7 @@ public final class EdgesOfMovesTest {
 
     // "what: 0 the hit stun, 1 the block stun, 2 the push, 3 the cost, 4 the gain"
     private static void patchOfWhat() {
-        DuelFrames x = withMoves(1);
+        Sided x = withMoves(1);
         for (int what : new int[] {-1, 5, FAR_BELOW, FAR_ABOVE}) {
             Check.outOfRange("what " + what, () -> x.patch(0, what, 0));
         }
@@ -231,7 +231,7 @@ public final class EdgesOfMovesTest {
 
     // "value: 0 to 60"
     private static void patchOfValue() {
-        DuelFrames x = withMoves(1);
+        Sided x = withMoves(1);
         for (int what = 0; what < 5; what++) {
             int which = what;
             for (int value : new int[] {-1, 61, FAR_BELOW, FAR_ABOVE}) {
@@ -247,7 +247,7 @@ public final class EdgesOfMovesTest {
 
     // "Returns that before."
     private static void patchReturnsThatBefore() {
-        DuelFrames x = withMoves(1);
+        Sided x = withMoves(1);
         Check.same("that at first", x.patch(0, 2, 33), 10);
         Check.same("that of the patch ahead", x.patch(0, 2, 33), 33);
         Check.same("also if it is the same", x.patch(0, 2, 34), 33);
@@ -255,7 +255,7 @@ public final class EdgesOfMovesTest {
 
     private static void patchOfOneAlone() {
         for (int i = 0; i < 30; i++) {
-            DuelFrames x = withMoves(6);
+            Sided x = withMoves(6);
             x.patch(i / 5, i % 5, 60);
             for (int k = 0; k < 30; k++) {
                 int due = k == i ? 60 : FIRST_TRAITS[k % 5];
@@ -266,7 +266,7 @@ public final class EdgesOfMovesTest {
 
     // patch "Throws IllegalStateException if a round goes on"
     private static void patchInARound() {
-        DuelFrames x = withMoves(1);
+        Sided x = withMoves(1);
         x.begin(20);
         Check.notNow("as the round begins", () -> x.patch(0, 0, 0));
         x.play(60, 0, 0);
@@ -282,7 +282,7 @@ public final class EdgesOfMovesTest {
 
     // "The first line of a method's throws clause that applies decides"
     private static void firstLineOfPatch() {
-        DuelFrames x = withMoves(1);
+        Sided x = withMoves(1);
         Check.outOfBounds("no such move and no such what", () -> x.patch(1, 5, 0));
         Check.outOfBounds("no such move and no such value", () -> x.patch(-1, 0, 61));
         x.begin(20);
@@ -296,7 +296,7 @@ public final class EdgesOfMovesTest {
     // cancel: "move: a move", "Throws IndexOutOfBoundsException if there is no such move, of either"
     private static void cancelOfAMove() {
         for (int count : new int[] {0, 1, 6}) {
-            DuelFrames x = withMoves(count);
+            Sided x = withMoves(count);
             for (int move : new int[] {-1, count, FAR_BELOW, FAR_ABOVE}) {
                 Check.outOfBounds("move " + move + " of " + count, () -> x.cancel(move, 0, true));
             }
@@ -309,7 +309,7 @@ public final class EdgesOfMovesTest {
     // "into: a move"
     private static void cancelInto() {
         for (int count : new int[] {1, 6}) {
-            DuelFrames x = withMoves(count);
+            Sided x = withMoves(count);
             for (int into : new int[] {-1, count, FAR_BELOW, FAR_ABOVE}) {
                 Check.outOfBounds("into " + into + " of " + count, () -> x.cancel(0, into, true));
                 Check.outOfBounds("both wrong", () -> x.cancel(into, into, true));
@@ -322,7 +322,7 @@ public final class EdgesOfMovesTest {
 
     // "into another one, or itself"
     private static void cancelIntoItself() {
-        DuelFrames x = withMoves(2);
+        Sided x = withMoves(2);
         Check.no("0 into itself", x.cancel(0, 0, true));
         Check.no("not 1 by that", x.cancel(1, 1, false));
         Check.yes("0 may", x.cancel(0, 0, false));
@@ -330,7 +330,7 @@ public final class EdgesOfMovesTest {
 
     // "Returns whether it might."
     private static void cancelReturnsWhetherItMight() {
-        DuelFrames x = withMoves(1);
+        Sided x = withMoves(1);
         Check.no("not, and not now", x.cancel(0, 0, false));
         Check.no("not ahead of it", x.cancel(0, 0, true));
         Check.yes("it might, and may", x.cancel(0, 0, true));
@@ -340,7 +340,7 @@ public final class EdgesOfMovesTest {
 
     private static void cancelOneWayAlone() {
         for (int i = 0; i < 36; i++) {
-            DuelFrames x = withMoves(6);
+            Sided x = withMoves(6);
             x.cancel(i / 6, i % 6, true);
             for (int k = 0; k < 36; k++) {
                 Check.same("cancelled " + i + ", looked at " + k, x.cancel(k / 6, k % 6, false) ? 1 : 0, k == i ? 1 : 0);
@@ -350,7 +350,7 @@ public final class EdgesOfMovesTest {
 
     // cancel "Throws IllegalStateException if a round goes on", "The first line .. decides"
     private static void cancelInARound() {
-        DuelFrames x = withMoves(1);
+        Sided x = withMoves(1);
         x.begin(300);
         Check.notNow("as the round begins", () -> x.cancel(0, 0, true));
         Check.outOfBounds("no such move decides", () -> x.cancel(1, 0, true));

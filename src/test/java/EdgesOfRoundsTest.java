@@ -8,6 +8,16 @@ public final class EdgesOfRoundsTest {
     private static final int FAR_BELOW = Integer.MIN_VALUE, FAR_ABOVE = Integer.MAX_VALUE;
 
     public static void main(String[] args) {
+        for (int figure = 0; figure < 2; figure++) {
+            Sided.seeFrom(figure);
+            all();
+        }
+        Sided.seeFrom(0);
+        fiveHundredAndTwelveCalls();
+        Check.end("EdgesOfRoundsTest");
+    }
+
+    private static void all() {
         apart();
         apartIsEven();
         inTheMidstOfTheStage();
@@ -42,28 +52,26 @@ public final class EdgesOfRoundsTest {
         nobodyWithTheSame();
         twoRoundsWinASet();
         winnerOfTheLatestSet();
-        fiveHundredAndTwelveCalls();
-        Check.end("EdgesOfRoundsTest");
     }
 
     // ---- begin
 
     // "apart: 20 to 300"
     private static void apart() {
-        DuelFrames x = new DuelFrames();
+        Sided x = new Sided();
         for (int apart : new int[] {18, 302, 0, -20, FAR_BELOW, FAR_ABOVE - 1}) {
             Check.outOfRange("apart " + apart, () -> x.begin(apart));
             Check.no("no round by " + apart, x.goesOn());
             Check.outOfBounds("no frame by " + apart, () -> x.again(0, 0, 0));
         }
         Check.same("20 is the first round", x.begin(20), 1);
-        Check.same("300 is, too", new DuelFrames().begin(300), 1);
+        Check.same("300 is, too", new Sided().begin(300), 1);
     }
 
     // ".. even"
     private static void apartIsEven() {
         for (int apart = 19; apart <= 301; apart++) {
-            DuelFrames x = new DuelFrames();
+            Sided x = new Sided();
             int by = apart;
             if (apart % 2 != 0) {
                 Check.outOfRange("apart " + apart, () -> x.begin(by));
@@ -77,7 +85,7 @@ public final class EdgesOfRoundsTest {
     // "with the figures in the midst of the stage"
     private static void inTheMidstOfTheStage() {
         for (int apart : new int[] {20, 22, 298, 300}) {
-            DuelFrames x = new DuelFrames();
+            Sided x = new Sided();
             x.begin(apart);
             Scene.places("apart " + apart, x, 300 - apart / 2, 300 + apart / 2);
         }
@@ -85,7 +93,7 @@ public final class EdgesOfRoundsTest {
 
     // begin "Throws IllegalStateException if a round goes on"
     private static void noBeginInARound() {
-        DuelFrames x = new DuelFrames();
+        Sided x = new Sided();
         x.begin(20);
         Check.notNow("at once", () -> x.begin(20));
         Scene.wait(x, 599);
@@ -98,7 +106,7 @@ public final class EdgesOfRoundsTest {
 
     // "Returns how many rounds were begun in the set, this one with them."
     private static void howManyRoundsWereBegun() {
-        DuelFrames x = new DuelFrames();
+        Sided x = new Sided();
         for (int round = 1; round <= 20; round++) {
             Check.same("round " + round + ", nobody has won", x.begin(20), round);
             Scene.waitOut(x);
@@ -106,7 +114,7 @@ public final class EdgesOfRoundsTest {
     }
 
     /** A round that the figure wins by five hits of 200. */
-    private static void win(DuelFrames x, int figure) {
+    private static void win(Sided x, int figure) {
         x.begin(20);
         for (int i = 0; i < 60 && x.goesOn(); i++) {
             x.play(1, figure == 0 ? 10 : 0, figure == 1 ? 10 : 0);
@@ -116,7 +124,7 @@ public final class EdgesOfRoundsTest {
 
     // "a new set, if the one ahead is won, or there was none"
     private static void aNewSetIfTheOneAheadIsWon() {
-        DuelFrames x = Scene.withQuick(DuelFrames.MID, 200);
+        Sided x = Scene.withQuick(DuelFrames.MID, 200);
         win(x, 0);
         win(x, 1);
         Check.same("one each: the set goes on", x.begin(20), 3);
@@ -130,7 +138,7 @@ public final class EdgesOfRoundsTest {
 
     // "life, 1000 as a round begins"
     private static void lifeAsARoundBegins() {
-        DuelFrames x = Scene.withQuick(DuelFrames.MID, 200);
+        Sided x = Scene.withQuick(DuelFrames.MID, 200);
         x.begin(20);
         Check.same("in the first round", x.of(0, 1) + x.of(1, 1), 2000);
         Scene.waitOut(x);
@@ -143,7 +151,7 @@ public final class EdgesOfRoundsTest {
 
     // "a meter, .. 0 as the first round of a set begins"
     private static void meterAsASetBegins() {
-        DuelFrames x = Scene.withQuick(DuelFrames.MID, 200);
+        Sided x = Scene.withQuick(DuelFrames.MID, 200);
         x.begin(20);
         Check.same("the figure 0 in the first set", x.of(0, 2), 0);
         Check.same("the figure 1 in the first set", x.of(1, 2), 0);
@@ -161,7 +169,7 @@ public final class EdgesOfRoundsTest {
 
     // "kept through rounds"
     private static void meterThroughRounds() {
-        DuelFrames x = Scene.withQuick(DuelFrames.MID, 1);
+        Sided x = Scene.withQuick(DuelFrames.MID, 1);
         x.patch(0, 4, 60);
         x.begin(20);
         Scene.quick(x, 0, 0);
@@ -181,11 +189,11 @@ public final class EdgesOfRoundsTest {
 
     // "Begins a round": whatever the figures did as the one ahead was over
     private static void allElseIsNewInARound() {
-        DuelFrames x = Scene.with(1, 10, 40, 150, DuelFrames.MID, 200);
+        Sided x = Scene.with(1, 10, 40, 150, DuelFrames.MID, 200);
         x.patch(0, 0, 60);
         x.patch(0, 2, 0);
         x.begin(20);
-        while (x.goesOn()) {
+        for (int i = 0; i < 10 && x.goesOn(); i++) {
             x.play(60, 10, 0);
         }
         Check.same("over in a MOVE", x.of(0, 3), M);
@@ -203,7 +211,7 @@ public final class EdgesOfRoundsTest {
 
     // "frames: 1 to 60"
     private static void playFrames() {
-        DuelFrames x = new DuelFrames();
+        Sided x = new Sided();
         x.begin(20);
         for (int frames : new int[] {0, 61, -1, FAR_BELOW, FAR_ABOVE}) {
             Check.outOfRange("frames " + frames, () -> x.play(frames, 0, 0));
@@ -216,7 +224,7 @@ public final class EdgesOfRoundsTest {
 
     // "An input is 0 nothing, 1 forward, 2 back, 3 low, 4 back and low, or 10 and more"
     private static void inputs() {
-        DuelFrames x = Scene.withQuick(DuelFrames.MID, 1);
+        Sided x = Scene.withQuick(DuelFrames.MID, 1);
         x.begin(300);
         for (int input : new int[] {-1, 5, 6, 7, 8, 9, FAR_BELOW, FAR_BELOW + 10}) {
             Check.outOfRange("input " + input + " of the figure 0", () -> x.play(1, input, 0));
@@ -232,7 +240,7 @@ public final class EdgesOfRoundsTest {
     // ".. the move of which the number is 10 less", "or of a move that there is not"
     private static void inputsOfMoves() {
         for (int count = 0; count <= 6; count++) {
-            DuelFrames x = new DuelFrames();
+            Sided x = new Sided();
             for (int i = 0; i < count; i++) {
                 x.move(1, 1, 1, 1, DuelFrames.MID, 1);
             }
@@ -251,7 +259,7 @@ public final class EdgesOfRoundsTest {
 
     // "Returns how many frames the round has."
     private static void playReturnsHowManyFrames() {
-        DuelFrames x = new DuelFrames();
+        Sided x = new Sided();
         x.begin(20);
         for (int i = 1; i <= 10; i++) {
             Check.same("all of them, not those of the call", x.play(60, 0, 0), 60 * i);
@@ -262,11 +270,11 @@ public final class EdgesOfRoundsTest {
 
     // "until the round is over"
     private static void playUntilTheRoundIsOver() {
-        DuelFrames x = new DuelFrames();
+        Sided x = new Sided();
         x.begin(20);
         Scene.wait(x, 541);
         Check.same("not beyond the frame 600", x.play(60, 0, 0), 600);
-        DuelFrames y = Scene.withQuick(DuelFrames.MID, 200);
+        Sided y = Scene.withQuick(DuelFrames.MID, 200);
         y.begin(20);
         // A hit each third frame: 200, 180, 160, 140, 120, 100, 80, 60 are 1040.
         Check.same("not beyond the eighth hit", y.play(60, 10, 0), 3 * 7 + 2);
@@ -276,7 +284,7 @@ public final class EdgesOfRoundsTest {
 
     // play "Throws IllegalStateException if no round goes on"
     private static void noPlayWithoutARound() {
-        DuelFrames x = new DuelFrames();
+        Sided x = new Sided();
         Check.notNow("ahead of the first round", () -> x.play(1, 0, 0));
         x.begin(20);
         Scene.wait(x, 600);
@@ -289,7 +297,7 @@ public final class EdgesOfRoundsTest {
 
     // "The first line of a method's throws clause that applies decides"
     private static void firstLineOfPlay() {
-        DuelFrames x = new DuelFrames();
+        Sided x = new Sided();
         Check.outOfRange("frames, and no round", () -> x.play(0, 0, 0));
         Check.outOfRange("frames, and no round", () -> x.play(61, 0, 0));
         Check.outOfRange("an input, and no round", () -> x.play(1, 5, 0));
@@ -301,7 +309,7 @@ public final class EdgesOfRoundsTest {
 
     // "figure: 0 or 1", "Throws IndexOutOfBoundsException if there is no such figure"
     private static void ofFigure() {
-        DuelFrames x = new DuelFrames();
+        Sided x = new Sided();
         for (int figure : new int[] {-1, 2, FAR_BELOW, FAR_ABOVE}) {
             Check.outOfBounds("ahead of the first round, figure " + figure, () -> x.of(figure, 0));
         }
@@ -317,7 +325,7 @@ public final class EdgesOfRoundsTest {
 
     // "what: 0 its place, .. 7 how many rounds it has won", "Throws IllegalArgumentException if what is out of range"
     private static void ofWhat() {
-        DuelFrames x = new DuelFrames();
+        Sided x = new Sided();
         for (int round = 0; round < 2; round++) {
             for (int what : new int[] {-1, 8, FAR_BELOW, FAR_ABOVE}) {
                 Check.outOfRange("what " + what, () -> x.of(0, what));
@@ -332,7 +340,7 @@ public final class EdgesOfRoundsTest {
 
     // "Returns as told; 0 ahead of the first round, NONE for 4."
     private static void ofAheadOfTheFirstRound() {
-        DuelFrames x = Scene.withQuick(DuelFrames.MID, 1);
+        Sided x = Scene.withQuick(DuelFrames.MID, 1);
         for (int figure = 0; figure < 2; figure++) {
             Check.figure("ahead of it", x, figure, 0, 0, 0, 0, NONE, 0, 0, 0);
         }
@@ -347,7 +355,7 @@ public final class EdgesOfRoundsTest {
 
     // "5 the frame of that": "in some frame of it, from 0 on"
     private static void ofTheFrameOfAMove() {
-        DuelFrames x = Scene.with(3, 2, 4, 1, DuelFrames.MID, 1);
+        Sided x = Scene.with(3, 2, 4, 1, DuelFrames.MID, 1);
         x.begin(20);
         for (int frame = 1; frame <= 8; frame++) {
             x.play(1, frame == 1 ? 10 : 0, 0);
@@ -360,7 +368,7 @@ public final class EdgesOfRoundsTest {
     // "or how many more frames it is HIT or BLOCKS, 0 if it STANDS"
     private static void ofTheFramesOfStuns() {
         for (int guard = 0; guard <= 4; guard += 4) {
-            DuelFrames x = Scene.withQuick(DuelFrames.MID, 10);
+            Sided x = Scene.withQuick(DuelFrames.MID, 10);
             x.begin(20);
             x.play(1, 10, 0);
             int stun = guard == 4 ? 12 : 20;
@@ -377,7 +385,7 @@ public final class EdgesOfRoundsTest {
 
     // "4 the move in which it is, NONE"
     private static void ofTheMove() {
-        DuelFrames x = Scene.withQuick(DuelFrames.MID, 10);
+        Sided x = Scene.withQuick(DuelFrames.MID, 10);
         x.move(5, 1, 5, 20, DuelFrames.MID, 10);
         x.begin(20);
         Check.same("STANDS", x.of(1, 4), NONE);
@@ -395,7 +403,7 @@ public final class EdgesOfRoundsTest {
 
     // "7 how many rounds it has won in the set"
     private static void ofRoundsWon() {
-        DuelFrames x = Scene.withQuick(DuelFrames.MID, 200);
+        Sided x = Scene.withQuick(DuelFrames.MID, 200);
         x.begin(20);
         Scene.quick(x, 0, 0);
         Check.same("not ahead of the end", x.of(0, 7), 0);
@@ -416,7 +424,7 @@ public final class EdgesOfRoundsTest {
 
     // "Returns whether a round goes on."
     private static void goesOn() {
-        DuelFrames x = new DuelFrames();
+        Sided x = new Sided();
         Check.no("ahead of the first round", x.goesOn());
         x.begin(20);
         Check.yes("with no frame yet", x.goesOn());
@@ -430,7 +438,7 @@ public final class EdgesOfRoundsTest {
 
     // "The round is over, .. with the 600th frame"
     private static void overWithTheSixHundredthFrame() {
-        DuelFrames x = new DuelFrames();
+        Sided x = new Sided();
         x.begin(20);
         Scene.wait(x, 598);
         Check.same("the frame 599", x.play(1, 0, 0), 599);
@@ -438,14 +446,14 @@ public final class EdgesOfRoundsTest {
         Check.same("the frame 600", x.play(1, 0, 0), 600);
         Check.no("is", x.goesOn());
         Check.notNow("there is no frame 601", () -> x.play(1, 0, 0));
-        DuelFrames y = Scene.with(1, 1, 1, 150, DuelFrames.MID, 100);
+        Sided y = Scene.with(1, 1, 1, 150, DuelFrames.MID, 100);
         y.begin(20);
         Scene.wait(y, 598);
         y.play(1, 10, 0);
         y.play(1, 0, 0);
         Check.same("a hit in the frame 600 counts", y.of(1, 1), 900);
         Check.same("who has more life then wins", y.of(0, 7), 1);
-        DuelFrames z = Scene.with(1, 1, 1, 150, DuelFrames.MID, 100);
+        Sided z = Scene.with(1, 1, 1, 150, DuelFrames.MID, 100);
         z.begin(20);
         Scene.wait(z, 599);
         z.play(60, 10, 0);
@@ -454,8 +462,8 @@ public final class EdgesOfRoundsTest {
     }
 
     /** The figure 0 has lost 800, in four hits that are each the first of a row; nobody has gone. */
-    private static DuelFrames lost800(int damage) {
-        DuelFrames x = Scene.withQuick(DuelFrames.MID, 200);
+    private static Sided lost800(int damage) {
+        Sided x = Scene.withQuick(DuelFrames.MID, 200);
         x.move(1, 1, 1, 150, DuelFrames.MID, damage);
         for (int i = 0; i < 2; i++) {
             x.patch(i, 0, 0);
@@ -472,12 +480,12 @@ public final class EdgesOfRoundsTest {
 
     // "The round is over, if a life is 0 or less": 1, then 0
     private static void overWithALifeOfNothing() {
-        DuelFrames x = lost800(199);
+        Sided x = lost800(199);
         x.play(1, 0, 11);
         x.play(1, 0, 0);
         Check.same("1 is left", x.of(0, 1), 1);
         Check.yes("it goes on with 1", x.goesOn());
-        DuelFrames y = lost800(200);
+        Sided y = lost800(200);
         y.play(1, 0, 11);
         Check.yes("it goes on ahead of the hit", y.goesOn());
         Check.same("over in the frame of the hit", y.play(60, 0, 0), 14);
@@ -488,7 +496,7 @@ public final class EdgesOfRoundsTest {
     }
 
     private static void overWithALifeBelowNothing() {
-        DuelFrames x = lost800(199);
+        Sided x = lost800(199);
         x.play(1, 0, 11);
         x.play(2, 0, 0);
         x.play(1, 0, 10);
@@ -497,7 +505,7 @@ public final class EdgesOfRoundsTest {
         Check.no("over", x.goesOn());
         Check.same("won", x.of(1, 7), 1);
         // By a block, too.
-        DuelFrames y = lost800(199);
+        Sided y = lost800(199);
         y.play(1, 0, 11);
         y.play(2, 0, 0);
         y.play(1, 0, 11);
@@ -507,8 +515,8 @@ public final class EdgesOfRoundsTest {
     }
 
     /** Both have lost 960, each the first of a row, in four trades. */
-    private static DuelFrames both40() {
-        DuelFrames x = Scene.withQuick(DuelFrames.MID, 200);
+    private static Sided both40() {
+        Sided x = Scene.withQuick(DuelFrames.MID, 200);
         x.move(1, 1, 1, 150, DuelFrames.MID, 10);
         for (int i = 0; i < 2; i++) {
             x.patch(i, 0, 0);
@@ -525,7 +533,7 @@ public final class EdgesOfRoundsTest {
     }
 
     private static void overWithBothLives() {
-        DuelFrames x = both40();
+        Sided x = both40();
         x.play(1, 10, 10);
         x.play(60, 0, 0);
         Check.same("both below 0", x.of(0, 1), -200);
@@ -537,7 +545,7 @@ public final class EdgesOfRoundsTest {
     // "who has more life wins it", both being below 0
     private static void moreLifeOfTwoBelowNothing() {
         for (int figure = 0; figure < 2; figure++) {
-            DuelFrames x = both40();
+            Sided x = both40();
             x.play(1, figure == 0 ? 11 : 0, figure == 1 ? 11 : 0);
             x.play(2, 0, 0);
             Check.same("30 are left", x.of(1 - figure, 1), 30);
@@ -552,7 +560,7 @@ public final class EdgesOfRoundsTest {
 
     private static void moreLifeByOne() {
         for (int figure = 0; figure < 2; figure++) {
-            DuelFrames x = Scene.withQuick(DuelFrames.MID, 1);
+            Sided x = Scene.withQuick(DuelFrames.MID, 1);
             x.begin(20);
             x.play(1, figure == 0 ? 10 : 0, figure == 1 ? 10 : 0);
             x.play(1, 0, 0);
@@ -565,7 +573,7 @@ public final class EdgesOfRoundsTest {
 
     // "nobody with the same"
     private static void nobodyWithTheSame() {
-        DuelFrames x = Scene.withQuick(DuelFrames.MID, 1);
+        Sided x = Scene.withQuick(DuelFrames.MID, 1);
         x.begin(20);
         x.play(1, 10, 10);
         x.play(1, 0, 0);
@@ -579,7 +587,7 @@ public final class EdgesOfRoundsTest {
     // "Who has won two rounds has won the set."
     private static void twoRoundsWinASet() {
         for (int figure = 0; figure < 2; figure++) {
-            DuelFrames x = Scene.withQuick(DuelFrames.MID, 200);
+            Sided x = Scene.withQuick(DuelFrames.MID, 200);
             win(x, figure);
             Check.same("one is not enough", x.winner(), NONE);
             win(x, 1 - figure);
@@ -596,7 +604,7 @@ public final class EdgesOfRoundsTest {
 
     // "Returns who has won the latest set; NONE if it is not won."
     private static void winnerOfTheLatestSet() {
-        DuelFrames x = Scene.withQuick(DuelFrames.MID, 200);
+        Sided x = Scene.withQuick(DuelFrames.MID, 200);
         Check.same("no set", x.winner(), NONE);
         win(x, 1);
         win(x, 1);
@@ -613,7 +621,7 @@ public final class EdgesOfRoundsTest {
 
     // "An object is used for at most 512 calls after it has been made"
     private static void fiveHundredAndTwelveCalls() {
-        DuelFrames x = new DuelFrames();
+        Sided x = new Sided();
         for (int i = 0; i < 6; i++) {
             x.move(1, 1, 1, 150, DuelFrames.MID, 10);
         }

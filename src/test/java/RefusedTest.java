@@ -14,22 +14,22 @@ public final class RefusedTest {
     private static final Class<?> STATE = IllegalStateException.class;
 
     /** A state of an object: how it comes about, how many moves there are in it, and whether a round was or is on. */
-    private record State(String name, int moves, boolean hasRound, boolean isOn, Consumer<DuelFrames> calls) {
-        DuelFrames make() {
-            DuelFrames x = new DuelFrames();
+    private record State(String name, int moves, boolean hasRound, boolean isOn, Consumer<Sided> calls) {
+        Sided make() {
+            Sided x = new Sided();
             calls.accept(x);
             return x;
         }
     }
 
-    private record Refused(String name, Class<?> by, Consumer<DuelFrames> call) {
+    private record Refused(String name, Class<?> by, Consumer<Sided> call) {
     }
 
     public static void main(String[] args) {
         for (State state : states()) {
             List<Integer> due = seen(state.make());
             for (Refused refused : refusedIn(state)) {
-                DuelFrames x = state.make();
+                Sided x = state.make();
                 String what = state.name + ", " + refused.name;
                 Check.fails(what, refused.by, () -> refused.call.accept(x));
                 Check.fails(what + ", once more", refused.by, () -> refused.call.accept(x));
@@ -64,7 +64,7 @@ public final class RefusedTest {
         return states;
     }
 
-    private static void moves(DuelFrames x, int count) {
+    private static void moves(Sided x, int count) {
         x.move(1, 2, 5, 60, DuelFrames.MID, 200);
         x.move(3, 1, 8, 45, DuelFrames.THROW, 90);
         for (int i = 2; i < count; i++) {
@@ -76,18 +76,18 @@ public final class RefusedTest {
         x.patch(1, 3, 12);
     }
 
-    private static void begun(DuelFrames x) {
+    private static void begun(Sided x) {
         moves(x, 2);
         x.begin(40);
     }
 
-    private static void inTheMidst(DuelFrames x) {
+    private static void inTheMidst(Sided x) {
         begun(x);
         x.play(1, 10, 0);
         x.play(1, 0, 11);
     }
 
-    private static void aheadOfTheLast(DuelFrames x) {
+    private static void aheadOfTheLast(Sided x) {
         moves(x, 6);
         x.begin(20);
         x.play(3, 10, 1);
@@ -95,12 +95,12 @@ public final class RefusedTest {
         x.play(1, 11, 10);
     }
 
-    private static void overByTime(DuelFrames x) {
+    private static void overByTime(Sided x) {
         inTheMidst(x);
         Scene.waitOut(x);
     }
 
-    private static void overByLife(DuelFrames x) {
+    private static void overByLife(Sided x) {
         moves(x, 6);
         x.patch(0, 2, 0);
         x.begin(20);
@@ -108,7 +108,7 @@ public final class RefusedTest {
         Check.yes("over by life", x.of(1, 1) <= 0 && !x.goesOn());
     }
 
-    private static void won(DuelFrames x) {
+    private static void won(Sided x) {
         moves(x, 2);
         x.patch(0, 2, 0);
         for (int round = 0; round < 2; round++) {
@@ -118,7 +118,7 @@ public final class RefusedTest {
         Check.same("the set is won", x.winner(), 0);
     }
 
-    private static void laterRound(DuelFrames x) {
+    private static void laterRound(Sided x) {
         overByTime(x);
         x.patch(0, 2, 3);
         x.begin(30);
@@ -266,7 +266,7 @@ public final class RefusedTest {
 
     // ---- all that can be seen
 
-    private static int answer(DuelFrames x, ToIntFunction<DuelFrames> call) {
+    private static int answer(Sided x, ToIntFunction<Sided> call) {
         try {
             return call.applyAsInt(x);
         } catch (IndexOutOfBoundsException e) {
@@ -279,7 +279,7 @@ public final class RefusedTest {
     }
 
     /** Fewer than 400 calls, the last of which change the object. */
-    private static List<Integer> seen(DuelFrames x) {
+    private static List<Integer> seen(Sided x) {
         List<Integer> seen = new ArrayList<>();
         seeFigures(x, seen);
         for (int frame : new int[] {0, 1, 2, 5, 599, 600}) {
@@ -297,7 +297,7 @@ public final class RefusedTest {
         return seen;
     }
 
-    private static void seeFigures(DuelFrames x, List<Integer> seen) {
+    private static void seeFigures(Sided x, List<Integer> seen) {
         for (int i = 0; i < 16; i++) {
             seen.add(x.of(i / 8, i % 8));
         }
@@ -305,7 +305,7 @@ public final class RefusedTest {
         seen.add(x.winner());
     }
 
-    private static void seeLab(DuelFrames x, List<Integer> seen) {
+    private static void seeLab(Sided x, List<Integer> seen) {
         for (int i = 0; i < 3; i++) {
             int move = i;
             seen.add(answer(x, y -> y.advantage(move, false)));
@@ -316,7 +316,7 @@ public final class RefusedTest {
         }
     }
 
-    private static void seePlay(DuelFrames x, List<Integer> seen) {
+    private static void seePlay(Sided x, List<Integer> seen) {
         for (int i = 0; i < 8; i++) {
             seen.add(answer(x, y -> y.play(1, 0, 0)));
         }
@@ -331,7 +331,7 @@ public final class RefusedTest {
         }
     }
 
-    private static void seeMoves(DuelFrames x, List<Integer> seen) {
+    private static void seeMoves(Sided x, List<Integer> seen) {
         for (int i = 0; i < 30; i++) {
             int which = i;
             seen.add(answer(x, y -> y.patch(which / 5, which % 5, 2)));
